@@ -174,7 +174,7 @@ public final class ExchangeHouse {
         if (slot == NONE || i < 0 || i >= runner.net.queued[slot] || what < 0 || what > 4) {
             return NONE;
         }
-        int from = Net.queueAt(slot, i);
+        int from = slot * Net.QUEUED + i * Net.MESSAGE;
         return runner.net.queue[from + (what < 2 ? what : Net.VALUES + what - 2)];
     }
 
@@ -776,6 +776,7 @@ public final class ExchangeHouse {
         static final int TYPES = 6;
         static final int VALUES = 3;
         static final int ENV = -1;
+        static final int ANY = -3;
         static final int TIMER_SIGNAL = 100;
 
         // Ops beside those that are kinds of tokens.
@@ -892,23 +893,10 @@ public final class ExchangeHouse {
             return row != NONE ? row : table[tableAt(type, state, STAR)] - 1;
         }
 
-        boolean carries(int route, int signal) {
-            return (carries[route] >> signal & 1) == 1;
-        }
-
-        /** The first route from a side to another that carries a signal. */
-        int routeBetween(int a, int b, int signal) {
+        /** The first route from a side to another, or to ANY, that carries a signal. */
+        int findRoute(int a, int b, int signal) {
             for (int r = 0; r < routes.size; r++) {
-                if (from[r] == a && to[r] == b && carries(r, signal)) {
-                    return r;
-                }
-            }
-            return NONE;
-        }
-
-        int routeFrom(int a, int signal) {
-            for (int r = 0; r < routes.size; r++) {
-                if (from[r] == a && carries(r, signal)) {
+                if (from[r] == a && (b == ANY || to[r] == b) && (carries[r] >> signal & 1) == 1) {
                     return r;
                 }
             }
@@ -947,6 +935,8 @@ public final class ExchangeHouse {
         private Kind kind = new Kind();
         private int where;
         private int mask;
+        /** How many the decide at hand has up to here. */
+        private int ranges;
 
         Parser(Tokens tokens) {
             this.tokens = tokens;
@@ -1457,17 +1447,15 @@ public final class ExchangeHouse {
             expression(0);
             plan.emit(Tokens.DECIDE, 0, 0, tokens.at);
             tokens.need(Tokens.SEMICOLON);
-            int ranges = 0;
+            int outerRanges = ranges;
+            ranges = 0;
             int jump = NONE;
             boolean ends = true;
             for (int i = 0; i < Tokens.MOST && (i == 0 || beginsRange(tokens.seen())); i++) {
-                ranges = branch(ranges);
-                int skip = plan.emit(Plan.SKIP, 0, 0, tokens.at);
-                ends &= part();
-                // Each jump holds the one before it, till the end of the decide is known.
-                jump = plan.emit(Plan.JUMP, jump, 0, tokens.at);
-                plan.arg[skip] = plan.size;
+                ends &= branch(jump);
+                jump = plan.size - 1;
             }
+            ranges = outerRanges;
             boolean otherwise = tokens.take(Tokens.ELSE);
             if (otherwise) {
                 tokens.need(Tokens.COLON);
@@ -1489,25 +1477,27 @@ public final class ExchangeHouse {
             return k == Tokens.NUMBER || k == Tokens.MINUS || k == Tokens.TRUE || k == Tokens.FALSE;
         }
 
-        /** The ranges of a branch: how many its decide has up to here. */
-        private int branch(int ranges) {
-            int n = ranges;
+        /** Whether its part ENDS. The jump behind it holds the one before it, till the decide's end is known. */
+        private boolean branch(int jump) {
             boolean more = true;
             for (int i = 0; i < Tokens.MOST && more; i++) {
-                range(n);
-                n++;
+                range();
                 more = tokens.take(Tokens.COMMA);
             }
             tokens.need(Tokens.COLON);
-            return n;
+            int skip = plan.emit(Plan.SKIP, 0, 0, tokens.at);
+            boolean ends = part();
+            plan.emit(Plan.JUMP, jump, 0, tokens.at);
+            plan.arg[skip] = plan.size;
+            return ends;
         }
 
-        private void range(int ahead) {
+        private void range() {
             int k = tokens.seen();
             int token = tokens.at;
             if (!beginsRange(k)) {
                 tokens.fail(Tokens.SYNTAX, token);
-            } else if (ahead >= MOST_RANGES) {
+            } else if (ranges >= MOST_RANGES) {
                 tokens.fail(Tokens.ROOM, token);
             } else if (k == Tokens.TRUE || k == Tokens.FALSE) {
                 int value = k == Tokens.TRUE ? 1 : 0;
@@ -1525,6 +1515,7 @@ public final class ExchangeHouse {
                 }
                 plan.emit(Plan.RANGE, low, high, token);
             }
+            ranges++;
         }
 
         private int bound() {
@@ -1959,7 +1950,7 @@ public final class ExchangeHouse {
             int r = find(plan.routes, token);
             plan.arg[pc] = r;
             int s = pc > 0 ? plan.arg[pc - 1] : NONE;
-            if (r != NONE && (plan.from[r] != type || s != NONE && !plan.carries(r, s))) {
+            if (r != NONE && (plan.from[r] != type || s != NONE && (plan.carries[r] >> s & 1) == 0)) {
                 blame(Tokens.FORM, token);
             }
         }
@@ -2147,6 +2138,8 @@ public final class ExchangeHouse {
         static final int MESSAGE = 6;
         static final int TIME = 6;
         static final int ON_WAY = 7;
+        /** From one instance's queue to the next one's. */
+        static final int QUEUED = QUEUE * MESSAGE;
 
         private static final int HEAD = 8;
         /** The most elements that pack() writes. */
@@ -2178,10 +2171,6 @@ public final class ExchangeHouse {
             seed = itsSeed;
             last = 0;
             Arrays.fill(rowSize, 0);
-        }
-
-        static int queueAt(int i, int q) {
-            return (i * QUEUE + q) * MESSAGE;
         }
 
         static int rowAt(int r, int n) {
@@ -2246,7 +2235,7 @@ public final class ExchangeHouse {
             System.arraycopy(queued, i + 1, queued, i, rest);
             System.arraycopy(cells, (i + 1) * CELLS, cells, i * CELLS, rest * CELLS);
             System.arraycopy(timers, (i + 1) * TIMERS, timers, i * TIMERS, rest * TIMERS);
-            System.arraycopy(queue, queueAt(i + 1, 0), queue, queueAt(i, 0), rest * QUEUE * MESSAGE);
+            System.arraycopy(queue, (i + 1) * QUEUED, queue, i * QUEUED, rest * QUEUED);
             alive--;
         }
 
@@ -2255,20 +2244,21 @@ public final class ExchangeHouse {
             if (queued[i] >= QUEUE) {
                 return false;
             }
-            System.arraycopy(message, 0, queue, queueAt(i, queued[i]), MESSAGE);
+            System.arraycopy(message, 0, queue, i * QUEUED + queued[i] * MESSAGE, MESSAGE);
             queued[i]++;
             return true;
         }
 
         void pull(int i, int q, int[] message) {
-            System.arraycopy(queue, queueAt(i, q), message, 0, MESSAGE);
+            System.arraycopy(queue, i * QUEUED + q * MESSAGE, message, 0, MESSAGE);
             remove(i, q);
         }
 
         private void remove(int i, int q) {
             int rest = queued[i] - q - 1;
             if (rest >= 0) {
-                System.arraycopy(queue, queueAt(i, q + 1), queue, queueAt(i, q), rest * MESSAGE);
+                int at = i * QUEUED + q * MESSAGE;
+                System.arraycopy(queue, at + MESSAGE, queue, at, rest * MESSAGE);
                 queued[i]--;
             }
         }
@@ -2277,7 +2267,7 @@ public final class ExchangeHouse {
         void cancel(int i, int t) {
             timers[i * TIMERS + t] = NONE;
             for (int q = queued[i] - 1; q >= 0; q--) {
-                if (queue[queueAt(i, q)] == Plan.TIMER_SIGNAL + t) {
+                if (queue[i * QUEUED + q * MESSAGE] == Plan.TIMER_SIGNAL + t) {
                     remove(i, q);
                 }
             }
@@ -2287,8 +2277,9 @@ public final class ExchangeHouse {
             if (timers[i * TIMERS + t] != NONE) {
                 return true;
             }
+            int at = i * QUEUED;
             for (int q = 0; q < queued[i]; q++) {
-                if (queue[queueAt(i, q)] == Plan.TIMER_SIGNAL + t) {
+                if (queue[at + q * MESSAGE] == Plan.TIMER_SIGNAL + t) {
                     return true;
                 }
             }
@@ -2366,7 +2357,7 @@ public final class ExchangeHouse {
             }
             to[from + 7] = set;
             System.arraycopy(cells, i * CELLS, to, from + HEAD, cellCount);
-            System.arraycopy(queue, queueAt(i, 0), to, from + HEAD + cellCount, queued[i] * MESSAGE);
+            System.arraycopy(queue, i * QUEUED, to, from + HEAD + cellCount, queued[i] * MESSAGE);
             return from + HEAD + cellCount + queued[i] * MESSAGE;
         }
 
@@ -2403,7 +2394,7 @@ public final class ExchangeHouse {
             int cellCount = plan.kinds[kind[i]].cells;
             Arrays.fill(cells, i * CELLS, (i + 1) * CELLS, 0);
             System.arraycopy(of, from + HEAD, cells, i * CELLS, cellCount);
-            System.arraycopy(of, from + HEAD + cellCount, queue, queueAt(i, 0), queued[i] * MESSAGE);
+            System.arraycopy(of, from + HEAD + cellCount, queue, i * QUEUED, queued[i] * MESSAGE);
             return from + HEAD + cellCount + queued[i] * MESSAGE;
         }
     }
@@ -2665,7 +2656,7 @@ public final class ExchangeHouse {
             if (i == NONE || signal < 0 || signal >= plan.signals.size) {
                 return false;
             }
-            int route = plan.routeBetween(Plan.ENV, net.kind[i], signal);
+            int route = plan.findRoute(Plan.ENV, net.kind[i], signal);
             if (route == NONE) {
                 return false;
             }
@@ -2766,7 +2757,7 @@ public final class ExchangeHouse {
                 return STARTS;
             }
             for (int q = 0; q < net.queued[i]; q++) {
-                int row = plan.teller(net.kind[i], net.at[i], net.queue[Net.queueAt(i, q)]);
+                int row = plan.teller(net.kind[i], net.at[i], net.queue[i * Net.QUEUED + q * Net.MESSAGE]);
                 boolean input = row != NONE && plan.ofRow(row, 0) == Tokens.INPUT;
                 if (row == NONE || input && holds(i, plan.ofRow(row, Plan.COND))) {
                     pickedSignal = q;
@@ -2774,20 +2765,18 @@ public final class ExchangeHouse {
                     return row == NONE ? LOSES : TAKES;
                 }
             }
-            pickedRow = chooseWhen(i);
+            pickedRow = NONE;
+            Kind kind = plan.kinds[net.kind[i]];
+            for (int row = kind.rowFrom; row < kind.rowTo; row++) {
+                if (stands(row, Tokens.WHEN, i) && isBetter(row) && holds(i, plan.ofRow(row, Plan.COND))) {
+                    pickedRow = row;
+                }
+            }
             return pickedRow == NONE ? 0 : SEES;
         }
 
-        private int chooseWhen(int i) {
-            Kind kind = plan.kinds[net.kind[i]];
-            int best = NONE;
-            for (int row = kind.rowFrom; row < kind.rowTo; row++) {
-                boolean better = best == NONE || plan.ofRow(row, Plan.PRIO) < plan.ofRow(best, Plan.PRIO);
-                if (better && stands(row, Tokens.WHEN, i) && holds(i, plan.ofRow(row, Plan.COND))) {
-                    best = row;
-                }
-            }
-            return best;
+        private boolean isBetter(int row) {
+            return pickedRow == NONE || plan.ofRow(row, Plan.PRIO) < plan.ofRow(pickedRow, Plan.PRIO);
         }
 
         /** Whether an if or when is true; one that is not told is. */
@@ -2867,7 +2856,7 @@ public final class ExchangeHouse {
             int pid = net.pid[i];
             log.note(Log.STOPPED, pid, NONE, 0);
             for (int q = 0; q < net.queued[i]; q++) {
-                int at = Net.queueAt(i, q);
+                int at = i * Net.QUEUED + q * Net.MESSAGE;
                 log.note(Log.LOST, pid, net.queue[at + Net.SIGNAL], net.queue[at + Net.SENDER]);
             }
             net.drop(i);
@@ -3061,9 +3050,9 @@ public final class ExchangeHouse {
             if (by == Parser.ROUTED) {
                 route = pc + 1 < plan.size ? plan.arg[pc + 1] : NONE;
             } else if (by == Parser.DIRECTED) {
-                route = receiver == NONE ? NONE : plan.routeBetween(net.kind[i], net.kind[receiver], signal);
+                route = receiver == NONE ? NONE : plan.findRoute(net.kind[i], net.kind[receiver], signal);
             } else {
-                route = plan.routeFrom(net.kind[i], signal);
+                route = plan.findRoute(net.kind[i], Plan.ANY, signal);
             }
             boolean lost = by == Parser.DIRECTED && receiver == NONE;
             if (route == NONE && !lost) {
@@ -3087,8 +3076,9 @@ public final class ExchangeHouse {
             message[Net.SIGNAL] = signal;
             message[Net.SENDER] = from;
             message[Net.RECEIVER] = to;
-            for (int v = Plan.VALUES - 1; v >= 0; v--) {
-                message[Net.VALUES + v] = v < values ? pop() : 0;
+            int given = Math.max(0, top - values);
+            for (int v = 0; v < Plan.VALUES; v++) {
+                message[Net.VALUES + v] = v < values ? stack[given + v] : 0;
             }
         }
 
@@ -3152,6 +3142,12 @@ public final class ExchangeHouse {
             keep(NONE, NONE, start.pack(plan, pool, 0));
             for (int k = 0; k < found && !cut; k++) {
                 goThrough(k);
+                stirAll(k);
+                if (!cut) {
+                    moves[k] = movesHere;
+                    lost[k] = lostHere;
+                    errors[k] = errorsHere;
+                }
             }
             return found;
         }
@@ -3185,6 +3181,7 @@ public final class ExchangeHouse {
             return sum;
         }
 
+        /** The moves of a state, but for those that nothing asks for. */
         private void goThrough(int k) {
             movesHere = 0;
             lostHere = 0;
@@ -3210,22 +3207,18 @@ public final class ExchangeHouse {
                     look(k);
                 }
             }
-            for (int i = 0; i < net.alive && !cut; i++) {
-                stirEach(k, i);
-            }
-            if (!cut) {
-                moves[k] = movesHere;
-                lost[k] = lostHere;
-                errors[k] = errorsHere;
-            }
         }
 
-        private void stirEach(int k, int i) {
-            Kind kind = plan.kinds[runner.net.kind[i]];
-            for (int row = kind.rowFrom; row < kind.rowTo && !cut; row++) {
-                if (runner.stands(row, Tokens.SPONTANEOUS, i)) {
-                    runner.stir(i, row);
-                    look(k);
+        /** The moves that come last: those that nothing asks for. */
+        private void stirAll(int k) {
+            Net net = runner.net;
+            for (int i = 0; i < net.alive; i++) {
+                Kind kind = plan.kinds[net.kind[i]];
+                for (int row = kind.rowFrom; row < kind.rowTo && !cut; row++) {
+                    if (runner.stands(row, Tokens.SPONTANEOUS, i)) {
+                        runner.stir(i, row);
+                        look(k);
+                    }
                 }
             }
         }
