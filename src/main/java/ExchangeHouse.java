@@ -12,17 +12,18 @@ public final class ExchangeHouse {
     private static final int MOST_STEPS = 1000;
     private static final int LONGEST_WAIT = 1000000;
 
-    private final byte[] tape = new byte[TAPE];
+    // Each part is made, with all its rows, when it is first needed, so that an object of which little is asked is small.
+    private byte[] tape = new byte[0];
     private int fed;
-    private final Tokens tokens = new Tokens();
-    private final Parser parser = new Parser(tokens);
-    private final Judge judge = new Judge(tokens);
-    private final Runner runner = new Runner(new Log(false));
-    private final Seeker seeker = new Seeker(new Runner(new Log(true)));
-    private final Sheet sheet = new Sheet(tokens);
+    private Tokens tokens;
+    private Parser parser;
+    private Judge judge;
+    private Runner runner;
+    private Seeker seeker;
+    private Sheet sheet;
     // A text is read into the spare plan, so that one with a fault leaves the system as it is.
     private Plan plan;
-    private Plan spare = new Plan();
+    private Plan spare;
     private boolean running;
     private int faultPlace = NONE;
 
@@ -32,6 +33,9 @@ public final class ExchangeHouse {
     public boolean feed(int a, int b, int c, int d, int e) {
         if (fed + FEED > TAPE) {
             return false;
+        }
+        if (tape.length == 0) {
+            tape = new byte[TAPE];
         }
         write(a);
         write(b);
@@ -53,6 +57,14 @@ public final class ExchangeHouse {
             return BAD_LENGTH;
         }
         fed = 0;
+        if (tokens == null) {
+            tokens = new Tokens();
+            parser = new Parser(tokens);
+            judge = new Judge(tokens);
+        }
+        if (spare == null) {
+            spare = new Plan();
+        }
         tokens.read(tape, n);
         parser.parse(spare);
         if (tokens.early == 0) {
@@ -66,7 +78,7 @@ public final class ExchangeHouse {
         judge.warn(spare);
         Plan old = plan;
         plan = spare;
-        spare = old == null ? new Plan() : old;
+        spare = old;
         running = false;
         return 0;
     }
@@ -85,6 +97,10 @@ public final class ExchangeHouse {
     public int begin(int seed) {
         if (plan == null) {
             return NONE;
+        }
+        if (runner == null) {
+            runner = new Runner(new Log(false));
+            seeker = new Seeker(new Runner(new Log(true)));
         }
         running = true;
         seeker.forget();
@@ -305,6 +321,9 @@ public final class ExchangeHouse {
         if (!running) {
             return NONE;
         }
+        if (sheet == null) {
+            sheet = new Sheet(tokens);
+        }
         tokens.read(tape, n);
         sheet.parse(plan.signals);
         int fault = tokens.fault();
@@ -318,9 +337,9 @@ public final class ExchangeHouse {
     public int choices(int what) {
         switch (what) {
             case 0:
-                return sheet.answeredLines;
+                return sheet == null ? 0 : sheet.answeredLines;
             case 1:
-                return sheet.answeredChoices;
+                return sheet == null ? 0 : sheet.answeredChoices;
             default:
                 return NONE;
         }
@@ -415,9 +434,11 @@ public final class ExchangeHouse {
         static final int ALT = 73;
         static final int OPT = 74;
 
-        private static final String WORDS = "true false null self sender parent offspring now waiting active not or and ";
-        private static final String MORE_WORDS = "signal route process var timer start state input save when none next stop join output set reset create decide else end to via with delay env if prio int bool pid chart inst alt opt ";
-        private static final int WORD_COUNT = 13;
+        private static final String OPERAND_WORDS = "true false null self sender parent offspring now waiting active not or and ";
+        private static final String TOLD_WORDS = "signal route process var timer start state input save when none ";
+        private static final String ACT_WORDS = "next stop join output set reset create decide else end to via ";
+        private static final String OTHER_WORDS = "with delay env if prio int bool pid chart inst alt opt ";
+        private static final int OPERAND_WORD_COUNT = 13;
         private static final int ALL_WORDS = 48;
         private static final int LONGEST_NAME = 10;
         private static final int LONGEST_NUMBER = 9;
@@ -438,11 +459,11 @@ public final class ExchangeHouse {
         private int length;
 
         Tokens() {
-            learn(WORDS, 0);
-            learn(MORE_WORDS, WORD_COUNT);
+            learn(OTHER_WORDS, learn(ACT_WORDS, learn(TOLD_WORDS, learn(OPERAND_WORDS, 0))));
         }
 
-        private void learn(String words, int from) {
+        /** Adds words to the keywords, of which there are some: how many there are then. */
+        private int learn(String words, int from) {
             int count = from;
             long code = 0;
             for (int i = 0; i < words.length(); i++) {
@@ -455,6 +476,7 @@ public final class ExchangeHouse {
                     code = 0;
                 }
             }
+            return count;
         }
 
         /** What a byte counts in a name; 0 if none has it. */
@@ -536,7 +558,7 @@ public final class ExchangeHouse {
         private int wordKind(long code) {
             for (int k = 0; k < ALL_WORDS; k++) {
                 if (keywords[k] == code) {
-                    return k < WORD_COUNT ? TRUE + k : SIGNAL + k - WORD_COUNT;
+                    return k < OPERAND_WORD_COUNT ? TRUE + k : SIGNAL + k - OPERAND_WORD_COUNT;
                 }
             }
             return NAME;
@@ -803,8 +825,10 @@ public final class ExchangeHouse {
         static final int CELL = 5;
 
         static final int STAR = SIGNALS + Net.TIMERS;
-        static final int CODE = 2600;
-        static final int ROWS = 640;
+        /** Of all that a text may have a decide with eight branches makes most: 28 ops of 21 tokens. */
+        static final int CODE = 1700;
+        /** Each row takes two tokens at least. */
+        static final int ROWS = 620;
         static final int WARNINGS = 200;
 
         final Names signals = new Names(SIGNALS);

@@ -21,6 +21,7 @@ public final class StepTest {
         rows();
         draws();
         dueInOrder();
+        largest();
         Desk.close("StepTest");
     }
 
@@ -461,5 +462,30 @@ public final class StepTest {
         Desk.due("timers", x.queued(2, 2, 0), 100);
         Desk.due("timers", x.queued(2, 3, 0), 101);
         Desk.due("in all", x.instance(1, 2), 3);
+    }
+
+    /** Texts of nearly 1200 tokens, of those that have the most to hold. */
+    private static void largest() {
+        StringBuilder text = new StringBuilder("process p 1..1;var x:int;start;");
+        for (int i = 0; i < 55; i++) {
+            text.append("decide x;0:1:2:3:4:5:6:7:end;");
+        }
+        Desk decides = Desk.started(text + "x:=77;next z;state z;end;", 1);
+        Desk.due("a step", decides.house.run(9), 1);
+        Desk.due("it came to the end", decides.house.cell(1, 0), 77);
+        Desk.due("state", decides.house.instance(1, 1), 0);
+        text = new StringBuilder("process p 1..1;var x:int;start;next z;state z;");
+        for (int i = 0; i < 293; i++) {
+            text.append("none;stop;");
+        }
+        Desk nones = Desk.started(text + "end;", 1);
+        nones.house.run(1);
+        Desk.due("the last none is there", nones.house.none(1, 293), 0);
+        Desk.due("the last none is there", nones.house.none(1, 292), 1);
+        text = new StringBuilder("signal s;process p 1..1;start;stop;state z;input s");
+        for (int i = 0; i < 585; i++) {
+            text.append(",s");
+        }
+        Desk.fault(6, (text + ";stop;end;").replaceFirst(",s", ",@s"));
     }
 }

@@ -104,7 +104,7 @@ public final class WildTest {
         long before = threads.getThreadAllocatedBytes(id);
         ExchangeHouse made = new ExchangeHouse();
         long made1 = threads.getThreadAllocatedBytes(id);
-        Desk.due("a new object has at most 400,000 bytes, not " + (made1 - before), made1 - before < 400000, true);
+        Desk.due("a new object has at most 2,000 bytes, not " + (made1 - before), made1 - before < 2000, true);
         Desk desk = Desk.started(SYSTEMS[1], 3);
         desk.house.run(12);
         before = threads.getThreadAllocatedBytes(id);
