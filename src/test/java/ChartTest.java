@@ -14,6 +14,7 @@ public final class ChartTest {
         altAndOpt();
         within();
         manyChoices();
+        oneBehindAnother();
         toItself();
         Desk.close("ChartTest");
     }
@@ -172,6 +173,14 @@ public final class ChartTest {
         keeps(TWO + "alt or or or x -> y : s; end; " + repeat("alt or or or end; ", 4), 1, 232);
         keeps(TWO + "alt x -> y : s; or or or end; " + repeat("alt or or or end; ", 5), 1, 1000);
         keeps(TWO + repeat("alt or or or end; ", 4) + "alt or or or x -> y : s; end;", 1, 250);
+    }
+
+    /** A chart of which not all choices were looked at leaves nothing to the next one. */
+    private static void oneBehindAnother() {
+        Desk desk = talked();
+        Desk.due("many", desk.chart(TWO + repeat("alt or or or end; ", 6)), 1);
+        Desk.due("another", desk.chart(TWO + "alt x -> y : s; or or or end; " + repeat("alt or or or end; ", 5)), 1);
+        Desk.due("the first 1000", desk.house.choices(1), 1000);
     }
 
     private static void toItself() {

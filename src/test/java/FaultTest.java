@@ -34,6 +34,7 @@ public final class FaultTest {
         Desk.fault(1, "signal @route;");
         Desk.fault(1, "signal @opt;");
         Desk.fault(1, "signal a@.;");
+        Desk.fault(1, "signal a;@. signal b;");
         Desk.fault(1, "signal a@\0;");
         Desk.fault(1, "signal a@\u00e9;");
         Desk.good("#note\nsignal#\u00ff\0 signal ;\n\ta\r;#the end");
@@ -349,6 +350,7 @@ public final class FaultTest {
         Desk.fault(5, V + "output m(1, @2, 3); " + STOP);
         Desk.fault(5, V + "output s to @x; " + STOP);
         Desk.fault(5, "process p 1..1 (k: int, y: bool); start; create p(1, @1); stop; end;");
+        Desk.fault(5, "process p 1..1 (k: int, y: bool); start; create p(@true, true); stop; end;");
         Desk.fault(5, V + "stop; state e; input s if @x; stop; end;");
         Desk.fault(5, V + "stop; state e; when @(x); stop; end;");
         Desk.fault(5, V + "decide @self; 1: end; " + STOP);

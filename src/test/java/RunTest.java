@@ -9,6 +9,7 @@ public final class RunTest {
         byItself();
         waiting();
         putting();
+        puttingOthers();
         puttingOnRows();
         Desk.close("RunTest");
     }
@@ -128,6 +129,12 @@ public final class RunTest {
         Desk.due("nones are no steps", x.count(11), 1);
         Desk.due("the last one", x.none(1, 1), 1);
         Desk.due("stopped", x.count(5), 0);
+        Desk others = Desk.started("process p 1..1; start; next a; state a; end; process q 1..1; var n: int; start; next a; state a; none; next -; when n = 0; n := 1; next -; end;", 1);
+        Desk.due("no other type's when", others.house.run(9), 3);
+        Desk.due("no other type's none", others.house.none(1, 0), 0);
+        Desk.due("its own", others.house.none(2, 0), 1);
+        Desk.due("moves", others.house.search(9), 1);
+        Desk.due("just one", others.house.state(0, 3), 1);
         Desk.due("its queue is lost", x.count(7), 1);
         // One that did a none is not the one that went last.
         Desk two = Desk.started("process p 2..2; var n: int; start; next a; state a; none; next -; when n < 1; n := 1; next -; end;", 1);
@@ -186,6 +193,17 @@ public final class RunTest {
         Desk.due("six are queued", x.instance(1, 2), 6);
         Desk.due("one is lost", x.count(7), 1);
         desk.events("lost", 4, "3 1 0 0");
+    }
+
+    private static void puttingOthers() {
+        Desk desk = Desk.started("signal s, u(bool), v(int, bool, bool); route e env -> p with u, v; process p 1..1; start; next a; state a; save *; end;", 1);
+        ExchangeHouse x = desk.house;
+        Desk.due("a bool", x.put(1, 1, 8, 9, 10), 1);
+        Desk.due("three", x.put(2, 1, 8, 0, -10), 1);
+        int[] want = {1, 0, 1, 0, 0, 2, 0, 8, 0, 1};
+        for (int i = 0; i < want.length; i++) {
+            Desk.due("signal " + i / 5 + ", " + i % 5, x.queued(1, i / 5, i % 5), want[i]);
+        }
     }
 
     private static void puttingOnRows() {

@@ -206,6 +206,8 @@ public final class SearchTest {
         Desk.due("all at their beginning", x.instance(1, 1), -1);
         Desk.due("nothing on the way", x.way(0, 0, 0), -1);
         Desk.due("nothing is set", x.timer(1, 0), -1);
+        parts();
+        lastIsNone();
         // The next pid is the state's, the count of those made is the run's.
         Desk maker = Desk.started("process p 1..1; start; next a; state a; none; create q; next -; end; process q 0..5; start; stop; end;", 1);
         maker.house.run(1);
@@ -218,6 +220,43 @@ public final class SearchTest {
         maker.house.none(1, 0);
         Desk.due("the pid is used again", maker.house.alive(1), 2);
         Desk.due("made", maker.house.count(6), 4);
+    }
+
+    /** All parts of instances come back by a visit. */
+    private static void parts() {
+        Desk desk = Desk.started("signal s(int, bool, pid); route r m -> k with s; process m 1..1; start; create k(4, true); output s(1, true, self); next a; state a; none; stop; end; "
+            + "process k 0..2 (i: int, b: bool); var q: pid; timer t; timer u; start; set u 5; create k(1, false); next a; state a; save s; end;", 1);
+        ExchangeHouse x = desk.house;
+        x.run(3);
+        Desk.due("search", x.search(100) > 1, true);
+        x.begin(1);
+        x.run(3);
+        Desk.due("search", x.search(100) > 1, true);
+        x.none(1, 0);
+        Desk.due("stopped", x.count(5), 2);
+        Desk.due("visit", x.visit(0), 1);
+        int[][] want = {{0, 0, 0, 0, 0, 2, 0}, {1, 0, 1, 0, 1, 3, 0}, {1, 0, 0, 0, 2, 0, 0}};
+        for (int pid = 1; pid <= 3; pid++) {
+            for (int what = 0; what < 7; what++) {
+                Desk.due("instance " + pid + ", " + what, x.instance(pid, what), want[pid - 1][what]);
+            }
+        }
+        Desk.due("cells", x.cell(2, 0) * 100 + x.cell(2, 1) * 10 + x.cell(2, 2), 410);
+        Desk.due("cells", x.cell(3, 0) * 100 + x.cell(3, 1) * 10 + x.cell(3, 2), 100);
+        Desk.due("timers", x.timer(2, 0) * 10 + x.timer(2, 1), -10);
+        Desk.due("queue", x.queued(2, 0, 1) * 1000 + x.queued(2, 0, 2) * 100 + x.queued(2, 0, 3) * 10 + x.queued(2, 0, 4), 1111);
+    }
+
+    private static void lastIsNone() {
+        Desk desk = Desk.started("process p 3..3; var n: int; start; next a; state a; when n < 9; n := n + 1; next -; end;", 1);
+        ExchangeHouse x = desk.house;
+        x.run(3);
+        x.search(2);
+        Desk.due("the second one went last", x.run(2), 2);
+        x.visit(0);
+        x.run(1);
+        Desk.due("the first one goes again", x.cell(1, 0), 1);
+        Desk.due("not the third one", x.cell(3, 0), 0);
     }
 
     private static void afterBegin() {

@@ -15,6 +15,9 @@ public final class StepTest {
         errorsInOrder();
         tooLong();
         timers();
+        stopsAmongOthers();
+        allDue();
+        mostTypes();
         creating();
         outputsTo();
         outputsVia();
@@ -309,6 +312,78 @@ public final class StepTest {
         }
         Desk.due("run", full.house.run(9), 1);
         full.events("a timer's signal is lost", 2, "8 1 100 1", "3 1 100 1");
+    }
+
+    /** What is left of the others when one in their midst stops. */
+    private static void stopsAmongOthers() {
+        Desk desk = Desk.started("signal s(int), g; route r p -> p with s; route e env -> p with g, s; process p 1..4 (k: int); timer t; timer u; start; set u 10 * waiting + 7; create p(k + 1); output s(k) to offspring; next a; "
+            + "state a; save s; input g; stop; end;", 1);
+        ExchangeHouse x = desk.house;
+        Desk.due("steps", x.run(4), 4);
+        x.put(0, 4, 8, 0, 0);
+        x.put(1, 2, 0, 0, 0);
+        Desk.due("the second stops", x.go(2), 1);
+        Desk.due("three are left", x.count(5), 3);
+        Desk.due("pids", x.alive(0) * 100 + x.alive(1) * 10 + x.alive(2), 134);
+        int[][] want = {{0, 0, 0, 0, 0, 2}, {0, 0, 1, 0, 2, 4}, {0, 0, 2, 0, 3, 0}};
+        int[] pids = {1, 3, 4};
+        for (int i = 0; i < 3; i++) {
+            for (int what = 0; what < 6; what++) {
+                Desk.due("instance " + pids[i] + ", " + what, x.instance(pids[i], what), want[i][what]);
+            }
+            Desk.due("cell", x.cell(pids[i], 0), pids[i] - 1);
+            Desk.due("timer", x.timer(pids[i], 0), -1);
+            Desk.due("timer", x.timer(pids[i], 1), i == 0 ? 7 : 17);
+        }
+        Desk.due("queue", x.queued(3, 0, 1) * 10 + x.queued(3, 0, 2), 21);
+        Desk.due("queue", x.queued(4, 0, 1) * 10 + x.queued(4, 0, 2), 32);
+        Desk.due("queue", x.queued(4, 1, 1) * 10 + x.queued(4, 1, 2), 8);
+        Desk active = Desk.started("signal s; route e env -> p with s; process p 1..1; var x: bool; timer t; start; next a; state a; save s; none; x := active t; next -; end;", 1);
+        active.house.run(1);
+        active.house.put(0, 1, 0, 0, 0);
+        active.house.none(1, 0);
+        Desk.due("another signal does not make a timer active", active.house.cell(1, 0), 0);
+    }
+
+    /** All that is due comes at once. */
+    private static void allDue() {
+        Desk desk = Desk.started("signal s; route e env -> p delay 2 with s; route f env -> q delay 2 with s; process p 1..1; start; next a; state a; save *; end; process q 1..1; start; next a; state a; save *; end;", 1);
+        ExchangeHouse x = desk.house;
+        for (int i = 0; i < 6; i++) {
+            x.put(0, 1, 0, 0, 0);
+            x.put(0, 2, 0, 0, 0);
+        }
+        x.wait(2);
+        x.go(5);
+        Desk.due("six", x.instance(1, 2), 6);
+        Desk.due("six", x.instance(2, 2), 6);
+        Desk.due("none left", x.way(1, 0, 0), -1);
+    }
+
+    /** Six types with twelve states each, and twenty signals. */
+    private static void mostTypes() {
+        StringBuilder text = new StringBuilder("signal s0");
+        for (int i = 1; i < 20; i++) {
+            text.append(",s").append(i);
+        }
+        text.append(";");
+        for (int t = 0; t < 6; t++) {
+            text.append("route r").append(t).append(" env->p").append(t).append(" with s19;process p").append(t);
+            text.append(" 1..1;var n:int;timer t;timer u;timer v;start;next z11;state z0,z1,z2,z3,z4,z5,z6,z7,z8,z9,z10,z11;");
+            text.append("input s19;n:=1").append(t).append(";set v 1;next -;state z11;input v;n:=n+20;next z0;input *;stop;");
+            text.append("end;");
+        }
+        Desk desk = Desk.started(text.toString(), 1);
+        ExchangeHouse x = desk.house;
+        Desk.due("starts", x.run(6), 6);
+        for (int t = 0; t < 6; t++) {
+            Desk.due("put", x.put(19, t + 1, 0, 0, 0), 1);
+        }
+        Desk.due("steps", x.run(100), 12);
+        for (int t = 0; t < 6; t++) {
+            Desk.due("n of " + t, x.cell(t + 1, 0), 30 + t);
+            Desk.due("state of " + t, x.instance(t + 1, 1), 0);
+        }
     }
 
     private static void creating() {

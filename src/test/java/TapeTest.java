@@ -6,6 +6,7 @@ public final class TapeTest {
         newObject();
         feeding();
         loading();
+        oneTextBehindAnother();
         Desk.close("TapeTest");
     }
 
@@ -57,6 +58,34 @@ public final class TapeTest {
         Desk.due("feed again", x.feed(0x73696700, 0, 0, 0, 0), true);
         Desk.due("the highest byte is the first", x.load(4), 1);
         Desk.due("sig is a name, which begins no text", x.place(), 0);
+    }
+
+    /** Nothing of a text is left to the ones behind it, with faults or without. */
+    private static void oneTextBehindAnother() {
+        String large = "signal s, u; route r env -> p with s; route r2 env -> p with u; process p 1..1 (k: int); var x: int; timer t; "
+            + "start; l: next a; state a; input s; next -; save *; none; join l; when x > 5; stop; state b; save s, t; end;";
+        String other = "signal v, s; route w env -> q with v, s; process q 1..2; timer y; start; l: k: next a; state a; input v; join l; none; join k; end;";
+        String small = "signal s; route r env -> p with s; process p 1..1; start; stop; state a; none; l: next a; end;";
+        Desk desk = new Desk();
+        ExchangeHouse x = desk.house;
+        for (int i = 0; i < 4; i++) {
+            Desk.due("large", desk.load(large), 0);
+            Desk.due("a fault", desk.load(large + "process p 1..1; start; l: stop; end;"), 3);
+            Desk.due("cells", x.type(0, 1), 2);
+            Desk.due("other", desk.load(other), 0);
+            Desk.due("routes", x.count(1), 1);
+            Desk.due("cells", x.type(0, 1), 0);
+            Desk.due("timers", x.type(0, 2), 1);
+            x.begin(1);
+            Desk.due("start", x.run(2), 1);
+            x.put(1, 1, 0, 0, 0);
+            Desk.due("what a text ahead told of a state is gone", x.instance(1, 6), 3);
+            Desk.due("its none", x.none(1, 0), 1);
+            Desk.due("no other", x.none(1, 1), 0);
+            Desk.due("small", desk.load(small), 0);
+            Desk.due("types", x.count(2), 1);
+            Desk.due("states", x.type(0, 0), 1);
+        }
     }
 
     private static void loading() {

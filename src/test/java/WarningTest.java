@@ -58,6 +58,10 @@ public final class WarningTest {
         warns("process p 1..1; start; @5l: stop; end;");
         warns("process p 1..1; start; @5l: k: join k; end;");
         warns("process p 1..1; start; @5l: stop; end; process q 1..1; start; l: join l; end;");
+        // A join, or a label, of a trans that nothing leads to tells nothing.
+        warns("process p 1..1; start; stop; state @1a; none; join l; state @1b; none; l: next c; state @1c; end;");
+        warns("process p 1..1; start; join l; state @1a; none; l: stop; state @1b; none; next c; state @1c; end;");
+        warns("process p 1..1; start; stop; state @1a; none; @5l: next b; state @1b; end;");
         // The label stands in a trans that tells b, though what is behind the label does not.
         warns("process p 1..1; var x: int; start; join l; state @1a; none; decide x; 1: next b; else: l: stop; end; state b; end;");
     }
@@ -97,5 +101,9 @@ public final class WarningTest {
         Desk.due("the warnings are others", desk.house.warning(0, 0), 4);
         desk.house.begin(1);
         Desk.due("a run leaves them", desk.house.warning(0, 1), 8);
+        Desk.due("load", desk.load("process p 1..1; start; stop; end;"), 0);
+        Desk.due("no warnings", desk.house.count(3), 0);
+        Desk.due("load", desk.load("process p 1..1; start; stop; end;"), 0);
+        Desk.due("no warnings", desk.house.count(3), 0);
     }
 }
