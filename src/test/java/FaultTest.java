@@ -180,6 +180,8 @@ public final class FaultTest {
         Desk.fault(1, "signal s(int, int, int, @);");
         Desk.fault(2, "process p 1..1 (a: int, b: int, c: int, @d: int); start; stop; end;");
         Desk.fault(2, V + "output m(1, true, null, @(1)); " + STOP);
+        Desk.fault(2, V + "output m(1, true, null, @x); " + STOP);
+        Desk.fault(2, V + "output m(1, true, null, @- 1); " + STOP);
         Desk.fault(1, V + "output m(1, true, null, @); " + STOP);
         Desk.fault(2, V + "create p(1, true, null, @not true); " + STOP);
         Desk.fault(2, S + P + "start; stop; state z; input m(a, b, c, @d); stop; end;");

@@ -43,6 +43,8 @@ public final class RunTest {
     private static void turns() {
         Desk desk = Desk.started("process p 3..3; var n: int; start; next a; state a; when n < 2; n := n + 1; next -; end;", 1);
         ExchangeHouse x = desk.house;
+        x.run(1);
+        Desk.due("begin again: none went last", x.begin(1), 3);
         Desk.due("one step", x.run(1), 1);
         Desk.due("the first one went", x.instance(1, 1), 0);
         Desk.due("not the second one", x.instance(2, 1), -1);

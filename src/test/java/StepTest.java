@@ -276,10 +276,30 @@ public final class StepTest {
         Desk.due("a step", good.house.run(5), 1);
         Desk.due("no error", good.house.count(8), 0);
         Desk.due("its state", good.house.instance(1, 1), 0);
+        everyActCounts();
         Desk bad = Desk.started(text + "n:=7;l:next z;state z;none;join l;end;", 1);
         Desk.due("a step", bad.house.run(5), 1);
         Desk.due("error", bad.house.count(9), 4);
         Desk.due("at the last's first token", bad.house.count(10), text.length() + 7);
+    }
+
+    /** Of each kind of act 200 are good with their next, and 201 are not. */
+    private static void everyActCounts() {
+        String[] acts = {"n:=1;", "a[1]:=1;", "output s;", "output s to self;", "output s via r;", "set t 1;", "reset t;", "create p;", "decide n;1:end;", "decide n;0:2:else:end;"};
+        for (String act : acts) {
+            String loop = "process p 1..1;var n:int;var m:int;var a:int[2];timer t;start;l:m:=m+1;" + act + "decide m;1..%:join l;end;";
+            String ends = "next z;state z;end;signal s;route r p->p with s;";
+            // Each round has 3 acts and, but for the last one, a join: 50 rounds are 199.
+            Desk good = Desk.started(loop.replace("%", "49") + ends, 1);
+            Desk.due("a step", good.house.run(1), 1);
+            Desk.due("no error by " + act, good.house.count(8), 0);
+            Desk bad = Desk.started(loop.replace("%", "49") + act + act + ends, 1);
+            Desk.due("a step", bad.house.run(1), 1);
+            Desk.due("an error by " + act, bad.house.count(9), 4);
+            Desk more = Desk.started(loop.replace("%", "49") + "n:=n+1;" + ends, 1);
+            Desk.due("a step", more.house.run(1), 1);
+            Desk.due("an error by one more", more.house.count(9), 4);
+        }
     }
 
     private static void timers() {
@@ -317,15 +337,17 @@ public final class StepTest {
     /** What is left of the others when one in their midst stops. */
     private static void stopsAmongOthers() {
         Desk desk = Desk.started("signal s(int), g; route r p -> p with s; route e env -> p with g, s; process p 1..4 (k: int); timer t; timer u; start; set u 10 * waiting + 7; create p(k + 1); output s(k) to offspring; next a; "
-            + "state a; save s; input g; stop; end;", 1);
+            + "state a; save s; input g; stop; none; next -; end;", 1);
         ExchangeHouse x = desk.house;
         Desk.due("steps", x.run(4), 4);
+        x.none(1, 0);
+        x.none(4, 0);
         x.put(0, 4, 8, 0, 0);
         x.put(1, 2, 0, 0, 0);
         Desk.due("the second stops", x.go(2), 1);
         Desk.due("three are left", x.count(5), 3);
         Desk.due("pids", x.alive(0) * 100 + x.alive(1) * 10 + x.alive(2), 134);
-        int[][] want = {{0, 0, 0, 0, 0, 2}, {0, 0, 1, 0, 2, 4}, {0, 0, 2, 0, 3, 0}};
+        int[][] want = {{0, 0, 0, 1, 0, 2}, {0, 0, 1, 0, 2, 4}, {0, 0, 2, 4, 3, 0}};
         int[] pids = {1, 3, 4};
         for (int i = 0; i < 3; i++) {
             for (int what = 0; what < 6; what++) {
@@ -338,11 +360,36 @@ public final class StepTest {
         Desk.due("queue", x.queued(3, 0, 1) * 10 + x.queued(3, 0, 2), 21);
         Desk.due("queue", x.queued(4, 0, 1) * 10 + x.queued(4, 0, 2), 32);
         Desk.due("queue", x.queued(4, 1, 1) * 10 + x.queued(4, 1, 2), 8);
+        newInPlaceOfOld();
         Desk active = Desk.started("signal s; route e env -> p with s; process p 1..1; var x: bool; timer t; start; next a; state a; save s; none; x := active t; next -; end;", 1);
         active.house.run(1);
         active.house.put(0, 1, 0, 0, 0);
         active.house.none(1, 0);
         Desk.due("another signal does not make a timer active", active.house.cell(1, 0), 0);
+    }
+
+    /** One that is made behind one that stopped has nothing of it. */
+    private static void newInPlaceOfOld() {
+        Desk desk = Desk.started("signal s; route e env -> k with s; process m 1..1; start; next a; state a; none; create k; next -; end; "
+            + "process k 0..2; var n: int; timer t; start; next a; state a; save s; none; n := 5; set t 5; create k; next -; none; stop; end;", 1);
+        ExchangeHouse x = desk.house;
+        x.run(1);
+        x.none(1, 0);
+        x.go(2);
+        x.put(0, 2, 0, 0, 0);
+        x.none(2, 0);
+        Desk.due("offspring", x.instance(2, 5), 3);
+        x.go(3);
+        x.none(3, 1);
+        x.none(2, 1);
+        x.none(1, 0);
+        int[] want = {1, -1, 0, 0, 1, 0, 1};
+        for (int what = 0; what < 7; what++) {
+            Desk.due("instance, " + what, x.instance(4, what), want[what]);
+        }
+        Desk.due("cell", x.cell(4, 0), 0);
+        Desk.due("timer", x.timer(4, 0), -1);
+        Desk.due("no queue", x.queued(4, 0, 0), -1);
     }
 
     /** All that is due comes at once. */

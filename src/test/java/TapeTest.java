@@ -65,13 +65,15 @@ public final class TapeTest {
         String large = "signal s, u; route r env -> p with s; route r2 env -> p with u; process p 1..1 (k: int); var x: int; timer t; "
             + "start; l: next a; state a; input s; next -; save *; none; join l; when x > 5; stop; state b; save s, t; end;";
         String other = "signal v, s; route w env -> q with v, s; process q 1..2; timer y; start; l: k: next a; state a; input v; join l; none; join k; end;";
-        String small = "signal s; route r env -> p with s; process p 1..1; start; stop; state a; none; l: next a; end;";
+        String small = "signal s; route r env -> p with s; process p 1..1; start; create p; stop; state a; none; l: next a; end;";
         Desk desk = new Desk();
         ExchangeHouse x = desk.house;
         for (int i = 0; i < 4; i++) {
             Desk.due("large", desk.load(large), 0);
             Desk.due("a fault", desk.load(large + "process p 1..1; start; l: stop; end;"), 3);
             Desk.due("cells", x.type(0, 1), 2);
+            Desk.due("a fault in the midst of a type", desk.load("process p 1..1; start; decide (1; "), 1);
+            Desk.due("its place", x.place(), 32);
             Desk.due("other", desk.load(other), 0);
             Desk.due("routes", x.count(1), 1);
             Desk.due("cells", x.type(0, 1), 0);

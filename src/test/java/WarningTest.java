@@ -58,6 +58,7 @@ public final class WarningTest {
         warns("process p 1..1; start; @5l: stop; end;");
         warns("process p 1..1; start; @5l: k: join k; end;");
         warns("process p 1..1; start; @5l: stop; end; process q 1..1; start; l: join l; end;");
+        warns("process q 1..1; start; l: join l; end; process p 1..1; start; @5l: stop; state @1a; end;");
         // A join, or a label, of a trans that nothing leads to tells nothing.
         warns("process p 1..1; start; stop; state @1a; none; join l; state @1b; none; l: next c; state @1c; end;");
         warns("process p 1..1; start; join l; state @1a; none; l: stop; state @1b; none; next c; state @1c; end;");
