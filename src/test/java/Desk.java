@@ -1,4 +1,5 @@
 import java.nio.charset.StandardCharsets;
+import java.util.function.IntUnaryOperator;
 
 /** What the tests share: an ExchangeHouse that is fed by texts, and a tally of wrong answers. */
 final class Desk {
@@ -11,7 +12,8 @@ final class Desk {
         asked++;
         if (got != want) {
             wrong++;
-            System.out.println(what + ": answered " + got + ", due is " + want);
+            String shown = what.length() > 600 ? what.substring(0, 100) + " .. " + what.substring(what.length() - 400) : what;
+            System.out.println(shown + ": answered " + got + ", due is " + want);
         }
     }
 
@@ -73,6 +75,53 @@ final class Desk {
 
     static void good(String text) {
         due("load of " + text, new Desk().load(text), 0);
+    }
+
+    /** A part n times; the mark % in it is each one's number from 0 on. */
+    static String repeat(String part, int n) {
+        StringBuilder text = new StringBuilder();
+        for (int i = 0; i < n; i++) {
+            text.append(part.replace("%", Integer.toString(i)));
+        }
+        return text.toString();
+    }
+
+    /** All answers of a row of calls, as one text. */
+    static String row(int from, int to, IntUnaryOperator call) {
+        StringBuilder text = new StringBuilder();
+        for (int i = from; i <= to; i++) {
+            text.append(call.applyAsInt(i)).append(' ');
+        }
+        return text.toString();
+    }
+
+    /** Two texts must be the same. */
+    static void same(String what, String got, String want) {
+        due(what + ": answered " + got + ", due is " + want, got.trim().equals(want.trim()), true);
+    }
+
+    /** What a house tells of itself, by some 300 calls, none of which changes it. */
+    String look() {
+        StringBuilder text = new StringBuilder("place " + house.place() + " counts " + row(0, 18, house::count));
+        text.append(" choices ").append(row(0, 1, house::choices)).append(" alive ").append(row(0, 4, house::alive));
+        for (int k = 0; k < 3; k++) {
+            int i = k;
+            text.append(" warning ").append(row(0, 1, what -> house.warning(i, what)));
+            text.append(" type ").append(row(0, 4, what -> house.type(i, what)));
+            text.append(" instance ").append(row(0, 6, what -> house.instance(i + 1, what)));
+            text.append(" cells ").append(row(0, 3, what -> house.cell(i + 1, what)));
+            text.append(" timers ").append(row(0, 2, what -> house.timer(i + 1, what)));
+            text.append(" queued ").append(row(0, 4, what -> house.queued(i + 1, 0, what)));
+            text.append(row(0, 4, what -> house.queued(i + 1, 1, what)));
+            text.append(" way ").append(row(0, 6, what -> house.way(i, 0, what))).append(row(0, 6, what -> house.way(i, 1, what)));
+            text.append(" out ").append(row(0, 5, what -> house.out(i, what)));
+            text.append(" state ").append(row(0, 6, what -> house.state(i, what)));
+        }
+        text.append(" first ").append(row(0, 3, what -> house.first(what, 0, 0))).append(house.first(4, 0, 0));
+        for (int i = Math.max(0, house.count(13) - 4); i < house.count(13); i++) {
+            text.append(" event ").append(event(i));
+        }
+        return text.toString();
     }
 
     /** Four numbers of an event, as one text. */

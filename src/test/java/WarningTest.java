@@ -7,6 +7,8 @@ public final class WarningTest {
         signals();
         types();
         sorted();
+        most();
+        longest();
         latest();
         Desk.close("WarningTest");
     }
@@ -88,6 +90,42 @@ public final class WarningTest {
 
     private static void sorted() {
         warns("process @4q 0..1; start; @5l: stop; state @1a; end; signal @2@3s, @2@3t; process p 1..1; start; stop; state @1b, @1c; end;");
+    }
+
+    /** All that a text without faults can be warned of. */
+    private static void most() {
+        StringBuilder text = new StringBuilder("signal @2@3a");
+        for (int i = 1; i < 20; i++) {
+            text.append(",@2@3s").append(i);
+        }
+        text.append(";");
+        for (int t = 0; t < 6; t++) {
+            text.append("process @4p").append(t).append(" 0..0;start;").append(Desk.repeat("@5l%:", 10)).append("stop;state @1a");
+            text.append(Desk.repeat(",@1z%", 11)).append(";end;");
+        }
+        warns(text.toString());
+    }
+
+    /** Chains that go against the text's order. */
+    private static void longest() {
+        StringBuilder back = new StringBuilder("process p 1..1;start;next z11;");
+        StringBuilder gap = new StringBuilder("process p 1..1;start;next z11;");
+        StringBuilder join = new StringBuilder("process p 1..1;start;join l9;state @1a;none;l0:next b;");
+        for (int k = 0; k < 12; k++) {
+            back.append("state z").append(k).append(";none;").append(k == 0 ? "stop;" : "next z" + (k - 1) + ";");
+            gap.append("state ").append(k < 6 ? "@1z" : "z").append(k).append(";none;").append(k == 0 ? "stop;" : k == 6 ? "next -;" : "next z" + (k - 1) + ";");
+        }
+        for (int k = 1; k < 10; k++) {
+            join.append("none;l").append(k).append(":join l").append(k - 1).append(";");
+        }
+        warns(back + "end;");
+        warns(gap + "end;");
+        warns(join + "state b;none;next c;state @1d;none;next d;state c;end;");
+        // By itself alone, or by the two of them alone, no state is come to.
+        warns("process p 1..1; start; stop; state @1a; none; next a; end;");
+        warns("process p 1..1; start; next c; state @1a; none; next b; state @1b; none; next a; state c; end;");
+        warns("process p 1..1; start; next a; state a; none; next -; state @1b; none; next -; end;");
+        warns("process p 1..1; start; stop; state *; none; next a; state @1a; end;");
     }
 
     private static void latest() {
