@@ -24,6 +24,9 @@ public final class EdgeChartTest {
         others();
         numbers();
         whichSignals();
+        toItself();
+        rowsInRows();
+        oneBehindAnother();
         Desk.close("EdgeChartTest");
     }
 
@@ -303,5 +306,54 @@ public final class EdgeChartTest {
         keeps(desk, TWO + LINE + "opt x -> env : v; x -> env : v; end;", 3, 0);
         keeps(desk, TWO + LINE + "alt x -> env : u; or end;", 2, 1);
         keeps(desk, TWO + LINE + "alt x -> env : v; or opt env -> env : u; end; end;", 3, 2);
+    }
+
+    /** Forty lines of one inst to itself are eighty events of it. */
+    private static void toItself() {
+        for (int n = 38; n <= 42; n++) {
+            Desk desk = Desk.started("signal s; route r p -> p with s; process p 1..1; start; next a; state a; input s; next -; none; output s; next -; end;", 1);
+            desk.house.run(1);
+            for (int i = 0; i < n; i++) {
+                desk.house.none(1, 0);
+                desk.house.go(1);
+            }
+            String chart = "chart; inst x = 1; " + Desk.repeat("x -> x : s; ", 40);
+            keeps(desk, chart, 40, n == 40 ? 1 : 0);
+            keeps(desk, chart.replaceFirst("x -> x : s; ", "").replaceFirst("x -> x : s; ", "opt x -> x : s; end; "), 39, n == 39 || n == 38 ? 1 : 0);
+        }
+    }
+
+    /** A line counts if all rows are chosen in which it stands. */
+    private static void rowsInRows() {
+        Desk desk = sent(1);
+        keeps(desk, TWO + "opt opt opt " + LINE + "end; end; end;", 1, 1);
+        keeps(desk, TWO + "alt or or end; opt opt " + LINE + "end; end;", 1, 3);
+        keeps(desk, TWO + "alt or or end; opt opt opt " + LINE + "end; end; end;", 1, 3);
+        keeps(desk, TWO + "opt opt end; end; alt or opt " + LINE + "end; or end;", 1, 4);
+        keeps(desk, TWO + "alt or alt or or " + LINE + "end; end; opt end;", 1, 2);
+        keeps(desk, TWO + "alt opt end; or opt end; " + LINE + "or opt end; end;", 1, 8);
+        keeps(desk, TWO + "alt opt y -> x : s; end; or " + LINE + "or opt y -> x : s; end; end;", 3, 4);
+        keeps(desk, TWO + "opt opt end; " + LINE + "opt end; end;", 1, 4);
+        keeps(desk, TWO + "opt alt " + LINE + "or opt end; end; end; opt y -> x : s; end;", 2, 2);
+    }
+
+    /** Nothing of a chart is left to the next one, with a fault or without. */
+    private static void oneBehindAnother() {
+        Desk desk = sent(1);
+        String[] faults = {"chart; alt", "chart; opt opt opt", "chart; alt or alt or", "chart; opt " + TWO.substring(7) + LINE + "?", TWO + Desk.repeat("opt end; ", 6) + "opt", "chart; inst x = 1; inst x = 1;"};
+        for (String fault : faults) {
+            Desk.due("a fault", desk.chart(fault) < -10, true);
+            keeps(desk, "chart;", 0, 1);
+            keeps(desk, TWO + LINE, 1, 1);
+            Desk.due("an end without an alt or opt", desk.chart("chart; end;"), -11);
+            Desk.due("its place", desk.house.place(), 7);
+            Desk.due("an or without an alt", desk.chart("chart; or"), -11);
+            Desk.due("its place", desk.house.place(), 7);
+        }
+        keeps(desk, TWO + "alt or or " + LINE + "end; alt or or or end;", 1, 4);
+        keeps(desk, TWO + "opt " + LINE + "end; alt or end;", 1, 2);
+        Desk.due("insts of the chart before are gone", desk.chart("chart; x -> y : s;"), -14);
+        Desk.due("its place", desk.house.place(), 7);
+        keeps(desk, "chart; inst y = 1; inst x = 2; y -> x : s;", 1, 1);
     }
 }

@@ -21,6 +21,8 @@ public final class EdgeJudgeTest {
         firstByPlace();
         whatIsNotAsked();
         told();
+        wholeExpressions();
+        manyDecides();
         Desk.close("EdgeJudgeTest");
     }
 
@@ -259,5 +261,79 @@ public final class EdgeJudgeTest {
         Desk.due("the other one", x.instance(1, 1), 0);
         Desk.due("the route told first is 0", x.way(0, 0, 0), -1);
         Desk.due("the signal told second is 1", x.way(1, 0, 0), 1);
+    }
+
+    /** Wherever an e stands it may be an or, and it has its sort. */
+    private static void wholeExpressions() {
+        Desk.good(HEAD + "y := y or y and y; decide y or x < 1 and not y; true: end; output b(y or y); a[x] := 1;" + TAIL + " signal b(bool);");
+        Desk.good(STATE + "input s if y or y; stop; when y or y prio 1;" + TAIL);
+        Desk.good("process p 1..1 (k: bool); start; create p(k or k);" + TAIL);
+        Desk.fault(5, HEAD + "x := @y or y;" + TAIL);
+        Desk.fault(5, HEAD + "set t @y or y;" + TAIL);
+        Desk.fault(5, HEAD + "a[@y or y] := 1;" + TAIL);
+        Desk.fault(5, HEAD + "a[0] := @y or y;" + TAIL);
+        Desk.fault(5, HEAD + "x := a[@y or y];" + TAIL);
+        Desk.fault(5, HEAD + "x := @(y or y);" + TAIL);
+        Desk.fault(5, HEAD + "output i(@y or y);" + TAIL);
+        Desk.fault(5, HEAD + "output s to @y or y;" + TAIL);
+        Desk.fault(5, HEAD + "decide y or y; @1: end;" + TAIL);
+        String[] ints = {"x", "1", "a[0]", "now", "waiting", "x + 1", "- x", "x % 2", "(1)"};
+        String[] bools = {"y", "true", "false", "active t", "x < 1", "x = 1", "not y", "y or y", "y and y", "(y)"};
+        String[] pids = {"z", "null", "self", "sender", "parent", "offspring", "(self)"};
+        String[][] all = {ints, bools, pids};
+        for (int sort = 0; sort < 3; sort++) {
+            for (String e : all[sort]) {
+                sorted(e, sort);
+            }
+        }
+    }
+
+    /** An e of a sort (0 int, 1 bool, 2 pid) stands where each is asked for. */
+    private static void sorted(String e, int sort) {
+        String[] places = {"x := %;", "y := %;", "z := %;", "a[%] := 1;", "x := a[%];", "set t %;", "output i(%);", "output s to %;", "x := x + (%);", "y := (%) and y;", "y := 1 <= (%);", "y := self = (%);", "x := - (%);", "y := not (%);"};
+        int[] wants = {0, 1, 2, 0, 0, 0, 0, 2, 0, 1, 0, 2, 0, 1};
+        for (int k = 0; k < places.length; k++) {
+            String text = HEAD + places[k].replace("%", "@" + e).replace("(@", "@(") + TAIL;
+            if (wants[k] == sort) {
+                Desk.good(text.replace("@", ""));
+            } else {
+                Desk.fault(5, text.replace("i@(", "i(@"));
+            }
+        }
+        for (String stimulus : new String[] {"when @%;", "input s if @%;"}) {
+            String text = STATE + stimulus.replace("%", e) + TAIL;
+            if (sort == 1) {
+                Desk.good(text.replace("@", ""));
+            } else {
+                Desk.fault(5, text);
+            }
+        }
+        if (sort == 2) {
+            Desk.fault(5, HEAD + "decide @" + e + "; 1: end;" + TAIL);
+        } else {
+            Desk.good(HEAD + "decide " + e + "; " + (sort == 0 ? "1" : "true") + ": end;" + TAIL);
+            Desk.fault(5, HEAD + "decide " + e + "; @" + (sort == 0 ? "true" : "1") + ": end;" + TAIL);
+        }
+    }
+
+    /** Many behind one another, and twelve within one another behind another. */
+    private static void manyDecides() {
+        String many = Desk.repeat("decide x;1:end;", 160);
+        Desk.good(P + "var x:int;var y:bool;start;" + many + "y:=x=1;stop;end;");
+        Desk.fault(5, P + "var x:int;var y:bool;start;" + many + "y:=@x;stop;end;");
+        Desk.fault(5, P + "var x:int;var y:bool;start;" + many + "decide y;@1:end;stop;end;");
+        String nested = "decide x; 1: end; " + Desk.repeat("decide x; 1: ", 11);
+        Desk.good(HEAD + nested + "decide y; true: end; " + Desk.repeat("2: end; ", 11) + TAIL);
+        Desk.fault(5, HEAD + nested + "decide y; @1: end; " + Desk.repeat("end; ", 11) + TAIL);
+        Desk.fault(5, HEAD + nested + "decide y; true: end; @true: " + Desk.repeat("end; ", 11) + TAIL);
+        // What must stand behind active, and in a bound.
+        Desk.fault(1, HEAD + "y := active @;" + TAIL);
+        Desk.fault(1, HEAD + "y := active @and y;" + TAIL);
+        Desk.fault(1, HEAD + "decide x; - @: end;" + TAIL);
+        Desk.fault(1, HEAD + "decide x; - @, 2: end;" + TAIL);
+        Desk.fault(1, HEAD + "decide x; 1 .. @: end;" + TAIL);
+        Desk.fault(1, HEAD + "decide x; 1 .. @, 2: end;" + TAIL);
+        Desk.fault(1, HEAD + "decide x; 1 .. - @: end;" + TAIL);
+        Desk.fault(1, HEAD + "decide x; - @- 1: end;" + TAIL);
     }
 }

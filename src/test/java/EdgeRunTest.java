@@ -28,6 +28,23 @@ public final class EdgeRunTest {
         due();
         stopping();
         seeds();
+        relations();
+        timersReset();
+        timersActive();
+        timersWithoutValues();
+        oneStopsAmongAll();
+        nobodyOfAType();
+        lastOfTwelve();
+        tenRoutes();
+        sixteenCells();
+        rowsOfOtherTypes();
+        atFirst();
+        whichRoute();
+        whichError();
+        whatWasDoneStays();
+        earliestFirst();
+        atOnceOrNot();
+        droppedValues();
         Desk.close("EdgeRunTest");
     }
 
@@ -521,5 +538,344 @@ public final class EdgeRunTest {
             Desk.due("the seed", desk.house.count(15), seed);
             Desk.due("steps", desk.house.run(1000), 2);
         }
+    }
+
+    /** Each relation, and each of not, and, or, of less, the same, more. */
+    private static void relations() {
+        Desk desk = Desk.started("signal i(int, int), q(pid, pid), c(bool, bool); route e env -> p with i, q, c; process p 1..1; var x: int; var y: int; var v: pid; var w: pid; var f: bool; var g: bool; var b: bool[8]; start; next a; state a; "
+            + "input i(x, y); b[0] := x = y; b[1] := x /= y; b[2] := x < y; b[3] := x <= y; b[4] := x > y; b[5] := x >= y; next -; "
+            + "input q(v, w); b[0] := v = w; b[1] := v /= w; next -; "
+            + "input c(f, g); b[0] := f = g; b[1] := f /= g; b[2] := f and g; b[3] := f or g; b[4] := not f; b[5] := not f and g; b[6] := not (f and g); b[7] := f or g and not g; next -; end;", 1);
+        ExchangeHouse x = desk.house;
+        x.go(1);
+        int[][] pairs = {{1, 2}, {2, 2}, {3, 2}, {-1, 1}, {Integer.MIN_VALUE, Integer.MAX_VALUE}, {Integer.MAX_VALUE, Integer.MIN_VALUE}};
+        for (int[] pair : pairs) {
+            int l = pair[0];
+            int r = pair[1];
+            x.put(0, 1, l, r, 0);
+            x.go(1);
+            boolean[] want = {l == r, l != r, l < r, l <= r, l > r, l >= r};
+            for (int k = 0; k < want.length; k++) {
+                Desk.due("relation " + k + " of " + l + " and " + r, x.cell(1, 6 + k), want[k] ? 1 : 0);
+            }
+            x.put(1, 1, l, r, 0);
+            x.go(1);
+            Desk.due("pids", x.cell(1, 6) * 10 + x.cell(1, 7), l == r ? 10 : 1);
+        }
+        for (int n = 0; n < 4; n++) {
+            boolean f = n / 2 == 1;
+            boolean g = n % 2 == 1;
+            x.put(2, 1, n / 2 * 7, n % 2 * -7, 0);
+            x.go(1);
+            boolean[] want = {f == g, f != g, f && g, f || g, !f, !f && g, !(f && g), f || g && !g};
+            for (int k = 0; k < want.length; k++) {
+                Desk.due("of bools " + f + " and " + g + ", " + k, x.cell(1, 6 + k), want[k] ? 1 : 0);
+            }
+        }
+    }
+
+    private static void timersReset() {
+        Desk desk = Desk.started("process p 1..1; timer t; timer u; start; set t 5; set u 9; next a; state a; none; reset t; next -; none; reset u; next -; none; set u 3; next -; input *; next -; end;", 1);
+        ExchangeHouse x = desk.house;
+        x.run(1);
+        x.none(1, 0);
+        Desk.due("it is not set any more", x.timer(1, 0), -1);
+        Desk.due("the other one is", x.timer(1, 1), 9);
+        x.none(1, 0);
+        Desk.due("reset of what is not set", x.timer(1, 0), -1);
+        x.none(1, 2);
+        Desk.due("set again", x.timer(1, 1), 3);
+        Desk.due("just one comes", x.run(9), 1);
+        Desk.due("at its time", x.count(4), 3);
+        x.none(1, 1);
+        Desk.due("nothing is left", x.run(9), 0);
+        Desk.due("no time went by", x.count(4), 3);
+    }
+
+    /** active is of its own timer, set or with a signal anywhere in the queue. */
+    private static void timersActive() {
+        Desk desk = Desk.started("signal s; route e env -> p with s; process p 1..1; var b: bool[3]; timer t; timer u; timer v; start; next a; state a; save *; "
+            + "none; b[0] := active t; b[1] := active u; b[2] := active v; next -; none; set t 0; next -; none; set u 0; next -; none; set v 0; next -; none; reset t; next -; none; reset u; next -; none; reset v; next -; end;", 1);
+        ExchangeHouse x = desk.house;
+        x.go(1);
+        x.put(0, 1, 0, 0, 0);
+        int[] dos = {0, 3, 2, 1, 5, 4, 6};
+        String[] want = {"0 0 0", "0 0 1", "0 1 1", "1 1 1", "1 0 1", "0 0 1", "0 0 0"};
+        for (int k = 0; k < dos.length; k++) {
+            x.none(1, dos[k]);
+            x.none(1, 0);
+            Desk.same("active behind " + dos[k], Desk.row(0, 2, i -> x.cell(1, i)), want[k]);
+        }
+        Desk.due("the other signal is left", x.queued(1, 0, 0) + x.instance(1, 2), 1);
+        x.none(1, 2);
+        x.none(1, 4);
+        x.go(1);
+        Desk.due("reset takes out its own alone", x.queued(1, 1, 0), 101);
+    }
+
+    private static void timersWithoutValues() {
+        Desk desk = Desk.started("signal m(int, int, int); route e env -> p with m; process p 1..1; timer t; start; set t 1; next a; state a; save *; end;", 1);
+        ExchangeHouse x = desk.house;
+        x.go(1);
+        x.put(0, 1, 7, 8, 9);
+        x.wait(1);
+        x.go(1);
+        Desk.same("a signal with values", Desk.row(0, 4, what -> x.queued(1, 0, what)), "0 0 7 8 9");
+        Desk.same("a timer's without", Desk.row(0, 4, what -> x.queued(1, 1, what)), "100 1 0 0 0");
+    }
+
+    /** Four that differ in all: one in their midst stops, and the others are as they were. */
+    private static void oneStopsAmongAll() {
+        for (int stops = 1; stops <= 4; stops++) {
+            Desk desk = Desk.started("signal i(int), g, m(int, int, int); route e env -> p with i, g, m; process p 4..6; var n: int; var a: int[3]; timer t; timer u; timer v; start; next z0; "
+                + "state *; save m; input i(n); a[n % 3] := n; decide n; 1: set t 11; next z1; 2: set u 22; set t 21; next z2; 3: set v 33; create p; next z3; else: set u 44; set v 43; next z4; end; none; stop; "
+                + "input g; output g to self; stop; state z0, z1, z2, z3, z4; end; route r p -> p with g;", 1);
+            ExchangeHouse x = desk.house;
+            x.run(4);
+            for (int pid = 1; pid <= 4; pid++) {
+                x.put(0, pid, pid, 0, 0);
+                x.go(pid);
+                for (int k = 0; k <= pid; k++) {
+                    x.put(2, pid, 10 * pid + k, k, pid);
+                }
+            }
+            String[] before = new String[6];
+            for (int pid = 1; pid <= 5; pid++) {
+                before[pid] = whole(x, pid);
+            }
+            Desk.same("the second", before[2], "0 2 3 0 0 0 0 2 0 0 2 21 22 -1 2 0 20 0 2 2 0 21 1 2");
+            Desk.same("the third", before[3], "0 3 4 0 0 5 0 3 3 0 0 -1 -1 33 2 0 30 0 3 2 0 31 1 3");
+            Desk.due("none", x.none(stops, 0), 1);
+            for (int pid = 1; pid <= 5; pid++) {
+                if (pid != stops) {
+                    Desk.same(pid + " when " + stops + " stopped", whole(x, pid), before[pid]);
+                }
+            }
+            Desk.due("alive", x.count(5), 4);
+            Desk.due("no more", x.instance(stops, 0), -1);
+        }
+    }
+
+    private static String whole(ExchangeHouse x, int pid) {
+        return Desk.row(0, 6, what -> x.instance(pid, what)) + Desk.row(0, 3, k -> x.cell(pid, k)) + Desk.row(0, 2, t -> x.timer(pid, t))
+            + Desk.row(0, 4, what -> x.queued(pid, 0, what)) + Desk.row(0, 4, what -> x.queued(pid, 1, what));
+    }
+
+    /** There was one of the route's type, and is none any more. */
+    private static void nobodyOfAType() {
+        Desk desk = Desk.started("signal s; route r p -> k with s; process p 1..1; start; next a; state a; none; output s; next -; none; output s via r; next -; end; process k 1..1; start; stop; end;", 1);
+        ExchangeHouse x = desk.house;
+        x.run(2);
+        for (int k = 0; k < 2; k++) {
+            int events = x.count(13);
+            x.none(1, k);
+            desk.events("lost, sent to none", events, "1 1 0 0", "3 0 0 1", "5 1 -1 0");
+        }
+        Desk.due("no error", x.count(8), 0);
+        // The least number is of those that are alive.
+        Desk two = Desk.started("signal s; route r p -> k with s; process p 1..1; start; next a; state a; none; output s; next -; end; process k 3..3; start; next a; state a; save s; none; stop; end;", 1);
+        two.house.run(4);
+        two.house.none(2, 0);
+        two.house.none(1, 0);
+        Desk.due("the least number", two.house.instance(3, 2), 1);
+        two.house.none(3, 0);
+        two.house.none(1, 0);
+        Desk.due("the least number then", two.house.instance(4, 2), 1);
+    }
+
+    /** The twelfth instance with all its cells, timers and a full queue. */
+    private static void lastOfTwelve() {
+        Desk desk = Desk.started("signal i(int, int, int); route e env -> p with i; process p 12..12; var x: int; var y: int; var z: int; var a: int[8]; var b: int[5]; timer t; timer u; timer v; start; next w; "
+            + "state w; save *; none; next q; state q; input i(x, y, z); a[7] := x; b[4] := z; set v 9; next w; none; set v 0; next -; none; reset v; next -; end;", 1);
+        ExchangeHouse x = desk.house;
+        x.run(12);
+        for (int k = 0; k < 7; k++) {
+            x.put(0, 12, k, 10 + k, 20 + k);
+        }
+        Desk.due("lost", x.count(7), 1);
+        x.none(12, 0);
+        Desk.due("a step", x.go(12), 1);
+        Desk.same("cells", Desk.row(0, 16, k -> x.cell(12, k)), "0 10 20 0 0 0 0 0 0 0 0 0 0 0 0 20 0");
+        Desk.same("timers", Desk.row(0, 3, t -> x.timer(12, t)), "-1 -1 9 -1");
+        Desk.same("the queue", Desk.row(0, 5, k -> x.queued(12, k, 4)), "21 22 23 24 25 -1");
+        x.none(12, 0);
+        x.none(12, 0);
+        x.go(1);
+        Desk.due("its timer is the last of a full queue", x.queued(12, 5, 0), 102);
+        x.none(12, 1);
+        Desk.due("reset takes it out", x.instance(12, 2), 5);
+        Desk.due("a step", x.go(12), 1);
+        Desk.due("the next one", x.cell(12, 0), 1);
+    }
+
+    private static void tenRoutes() {
+        Desk desk = Desk.started("signal " + Desk.repeat("s%, ", 19) + "z; " + Desk.repeat("route r% env -> p delay % with s%; ", 9) + "route r9 p -> env delay 9 with z; process p 1..1; start; next a; state a; input *; next -; none; output z; next -; none; output s0; next -; end;", 1);
+        ExchangeHouse x = desk.house;
+        x.run(1);
+        for (int s = 0; s < 20; s++) {
+            Desk.due("put " + s, x.put(s, 1, 0, 0, 0), s < 9 ? 1 : 0);
+        }
+        Desk.due("none", x.none(1, 0), 1);
+        Desk.same("signals on routes", Desk.row(-1, 10, r -> x.way(r, 0, 0)), "-1 -1 1 2 3 4 5 6 7 8 19 -1");
+        Desk.same("times", Desk.row(-1, 10, r -> x.way(r, 0, 3)), "-1 -1 1 2 3 4 5 6 7 8 9 -1");
+        Desk.due("all come", x.run(99), 9);
+        Desk.due("out", x.count(12), 1);
+        Desk.due("now", x.count(4), 9);
+        Desk.due("none", x.none(1, 1), 1);
+        Desk.due("no way by any of the ten", x.count(9), 3);
+    }
+
+    private static void sixteenCells() {
+        Desk desk = Desk.started("process p 2..2; var a: int[8]; var b: int[8]; start; a[0] := 5; b[7] := 6; next z; state z; end;", 1);
+        ExchangeHouse x = desk.house;
+        x.run(2);
+        for (int pid = 1; pid <= 2; pid++) {
+            int its = pid;
+            Desk.same("cells", Desk.row(-1, 17, k -> x.cell(its, k)), "0 5 0 0 0 0 0 0 0 0 0 0 0 0 0 0 6 0 0");
+        }
+    }
+
+    /** The whens and nones of a type are no other's. */
+    private static void rowsOfOtherTypes() {
+        Desk desk = Desk.started("process p 1..1; start; next a; state a; end; process q 1..1; var n: int; start; next a; state a; when n = 0; n := 1; next -; none; next -; end; process r 1..1; start; next a; state a; none; stop; end;", 1);
+        ExchangeHouse x = desk.house;
+        Desk.due("steps", x.run(99), 4);
+        Desk.same("no step", Desk.row(1, 3, pid -> x.instance(pid, 6)), "0 0 0");
+        Desk.same("nones", Desk.row(1, 3, pid -> x.none(pid, 0)), "0 1 1");
+        Desk other = Desk.started("process p 1..1; start; next a; state a; end; process q 0..1; start; create q; next a; state a; none; stop; when true; stop; end;", 1);
+        Desk.due("steps", other.house.run(99), 1);
+        Desk.due("no none", other.house.none(1, 0), 0);
+        Desk.due("no move", other.house.search(9), 1);
+        Desk.due("no move", other.house.state(0, 3), 0);
+    }
+
+    /** All that an instance has at its beginning, one that begin() made and one that another made. */
+    private static void atFirst() {
+        Desk desk = Desk.started("process p 1..2 (k: int, b: bool, q: pid); var a: int[2]; timer t; start; create p(5, true, self); next z; state z; end;", 1);
+        ExchangeHouse x = desk.house;
+        Desk.same("of begin()", Desk.row(0, 6, what -> x.instance(1, what)) + Desk.row(0, 5, k -> x.cell(1, k)) + x.timer(1, 0), "0 -1 0 0 0 0 1 0 0 0 0 0 0 -1");
+        x.go(1);
+        Desk.same("the one that made it", Desk.row(0, 6, what -> x.instance(1, what)), "0 0 0 0 0 2 0");
+        Desk.same("of create", Desk.row(0, 6, what -> x.instance(2, what)) + Desk.row(0, 5, k -> x.cell(2, k)) + x.timer(2, 0), "0 -1 0 0 1 0 1 5 1 1 0 0 0 -1");
+        Desk.due("it was made last", x.event(1, 0) * 10 + x.event(1, 3), 1);
+    }
+
+    /** The first route told, of those that lead there and carry it. */
+    private static void whichRoute() {
+        String text = "signal s, u; route a k -> p delay 1 with s; route b p -> k delay 2 with u; route c p -> q delay 3 with u, s; route d p -> k delay 4 with s, u; route e p -> env delay 5 with s; route f p -> k delay 6 with s; "
+            + "process p 1..1; var v: pid; start; v := offspring; create k; next z; state z; none; output s to offspring; next -; none; output u to offspring; next -; none; output s; next -; none; output u; next -; none; output s via f; next -; none; output s via e; next -; none; output s to v; next -; none; output s to self; next -; end; "
+            + "process k 0..1; start; next z; state z; save *; end; process q 1..1; start; next z; state z; save *; end;";
+        int[] route = {3, 1, 2, 1, 5, 4, -1, -1};
+        for (int k = 0; k < route.length; k++) {
+            Desk desk = Desk.started(text, 1);
+            ExchangeHouse x = desk.house;
+            x.run(3);
+            int events = x.count(13);
+            Desk.due("none", x.none(1, k), 1);
+            for (int r = 0; r < 6; r++) {
+                Desk.due("output " + k + " on route " + r, x.way(r, 0, 3), r == route[k] ? r + 1 : -1);
+            }
+            int to = k == 5 || k == 6 ? 0 : k == 2 ? 2 : 3;
+            if (k < 7) {
+                Desk.same("it was sent", desk.event(events), "1 1 " + (k == 1 || k == 3 ? 1 : 0) + " " + to);
+            }
+            Desk.due("lost to null", x.count(7), k == 6 ? 1 : 0);
+            Desk.due("without a way", x.count(9), k == 7 ? 3 : 0);
+        }
+        Desk env = Desk.started("signal s, u; route a env -> q delay 1 with s; route b p -> p delay 2 with s; route c env -> p delay 3 with u; route d env -> p delay 4 with s, u; route f env -> p delay 5 with s; process p 1..1; start; stop; end; process q 1..1; start; stop; end;", 1);
+        Desk.due("put", env.house.put(0, 1, 0, 0, 0), 1);
+        Desk.same("by the first route from env to its type", Desk.row(0, 4, r -> env.house.way(r, 0, 3)), "-1 -1 -1 4 -1");
+        Desk.due("put", env.house.put(1, 1, 0, 0, 0), 1);
+        Desk.same("by the first route from env to its type", Desk.row(0, 4, r -> env.house.way(r, 0, 3)), "-1 -1 3 4 -1");
+        Desk.due("put", env.house.put(0, 2, 0, 0, 0), 1);
+        Desk.due("by the other's route", env.house.way(0, 0, 2), 2);
+        Desk.due("none leads there", env.house.put(1, 2, 0, 0, 0), 0);
+    }
+
+    /** The error of the first one counts. */
+    private static void whichError() {
+        String[] acts = {"output i(1 / n)", "output i(a[2])", "output i(1) to q[2]", "output i(1 / n) to q[2]", "output i(a[2]) to q[n / n]", "output i(1)", "output i(1) to self", "output i(1) to null", "output i(1 % n) to null",
+            "a[2] := 1 / n", "a[1 / n] := a[2]", "a[n] := 1 / n", "set t a[2]", "set t 1 / n", "create p(a[2], 1 / n)", "create p(1 / n, a[2])", "decide a[2] + 1 / n; 1: end", "decide 1 / n + a[2]; 1: end",
+            "b := n = 0 or a[2] = 0", "b := n = 1 and 1 / n = 0", "b := 1 / n = a[2]", "a[a[a[2]]] := 1", "n := a[0 - 1] + 1 / n", "n := - (1 / n) + a[2]", "b := not (a[2] = 1 / n)"};
+        int[] want = {2, 1, 1, 2, 1, 3, 3, 0, 2, 1, 2, 2, 1, 2, 1, 2, 1, 2, 1, 2, 2, 1, 1, 2, 1};
+        for (int k = 0; k < acts.length; k++) {
+            String text = "signal i(int); process p 1..2 (n: int, m: int); var a: int[2]; var q: pid[2]; var b: bool; timer t; start; l: ";
+            Desk desk = Desk.started(text + acts[k] + "; next z; state z; none; join l; end;", 1);
+            ExchangeHouse x = desk.house;
+            Desk.due("a step", x.go(1), 1);
+            Desk.due("error of " + acts[k], x.count(9), want[k]);
+            Desk.due("place of " + acts[k], x.count(10), want[k] == 0 ? 0 : text.length());
+            Desk.due("made by " + acts[k], x.count(6), 1);
+            Desk.due("alive behind " + acts[k], x.count(5), want[k] == 0 ? 1 : 0);
+        }
+    }
+
+    private static void whatWasDoneStays() {
+        Desk desk = Desk.started("signal s(int), o; route r p -> q with s; route d p -> q delay 4 with s; route w p -> env with o; process p 1..1; var n: int; start; output s(5); output s(6) via d; output o; create k; n := 1 / n; output s(7); stop; end; "
+            + "process q 1..1; start; next z; state z; save s; end; process k 0..1; start; stop; end;", 1);
+        ExchangeHouse x = desk.house;
+        x.go(1);
+        desk.events("up to the error", 2, "1 1 0 2", "1 1 0 2", "1 1 1 0", "4 0 1 1", "0 3 -1 1", "7 1 -1 0", "6 1 -1 0");
+        Desk.due("in the queue", x.queued(2, 0, 2), 5);
+        Desk.due("no other", x.instance(2, 2), 1);
+        Desk.due("on the way", x.way(1, 0, 4), 6);
+        Desk.due("out", x.count(12), 1);
+        Desk.due("made, by one that is no more", x.instance(3, 4), 1);
+        Desk.due("errors", x.count(8), 1);
+        // A second error takes the first one's place.
+        String text = "process p 1..1; var n: int; start; n := 1 / n; stop; end; process q 1..1; var a: int[2]; start; a[5] := 1; stop; end;";
+        Desk two = Desk.started(text, 1);
+        two.house.run(1);
+        Desk.same("the first", Desk.row(8, 10, two.house::count), "1 2 " + text.indexOf("n := 1"));
+        two.house.run(1);
+        Desk.same("the latest", Desk.row(8, 10, two.house::count), "2 1 " + text.indexOf("a[5]"));
+    }
+
+    /** NOW becomes the least time of all that is on the way or set. */
+    private static void earliestFirst() {
+        int[][] times = {{3, 5, 7, 9}, {9, 7, 5, 3}, {5, 3, 9, 7}, {7, 9, 3, 5}};
+        for (int[] its : times) {
+            Desk desk = Desk.started("signal s, u; route a env -> p delay " + its[0] + " with s; route b env -> p delay " + its[1] + " with u; process p 1..1; timer t; timer v; start; set t " + its[2] + "; set v " + its[3] + "; next z; state z; input *; next -; end;", 1);
+            ExchangeHouse x = desk.house;
+            x.put(0, 1, 0, 0, 0);
+            x.put(1, 1, 0, 0, 0);
+            Desk.due("start", x.run(1), 1);
+            for (int now = 3; now <= 9; now += 2) {
+                Desk.due("a step", x.run(1), 1);
+                Desk.due("now", x.count(4), now);
+            }
+            Desk.due("it rests", x.run(1), 0);
+        }
+    }
+
+    /** Without delay at once; with a delay of 0 when what is due comes; behind the others. */
+    private static void atOnceOrNot() {
+        Desk desk = Desk.started("signal s(int); route a p -> q with s; route b p -> q delay 0 with s; route c p -> q delay 0 .. 0 with s; process p 1..1; start; output s(1) via c; output s(2) via b; output s(3) via a; next z; state z; end; process q 1..1; start; next z; state z; save s; end;", 1);
+        ExchangeHouse x = desk.house;
+        x.go(1);
+        Desk.due("at once", x.instance(2, 2), 1);
+        Desk.same("not at once", x.way(1, 0, 3) + " " + x.way(2, 0, 3), "0 0");
+        x.go(1);
+        Desk.same("then, routes in order", Desk.row(0, 3, i -> x.queued(2, i, 2)), "3 2 1 -1");
+        Desk run = Desk.started("signal s; route b p -> q delay 0 with s; process p 1..1; start; output s; next z; state z; end; process q 1..1; start; next z; state z; input s; stop; end;", 1);
+        Desk.due("it comes between steps", run.house.run(2), 2);
+        Desk.due("it came", run.house.instance(2, 2), 1);
+        Desk.due("a step", run.house.run(9), 1);
+    }
+
+    /** An input without names drops the values. */
+    private static void droppedValues() {
+        Desk desk = Desk.started("signal m(int, bool, pid); route e env -> p with m; process p 1..1; var n: int; var b: bool; var q: pid; start; n := 3; next z; state z; input m; next y; state y; input m(n, b, q); next x; state x; input *; next -; end;", 1);
+        ExchangeHouse x = desk.house;
+        x.go(1);
+        x.put(0, 1, 7, 7, 7);
+        x.go(1);
+        Desk.same("dropped", Desk.row(0, 2, k -> x.cell(1, k)), "3 0 0");
+        x.put(0, 1, 8, 8, 8);
+        x.go(1);
+        Desk.same("kept", Desk.row(0, 2, k -> x.cell(1, k)), "8 1 8");
+        x.put(0, 1, 9, 0, 9);
+        x.go(1);
+        Desk.same("dropped by *", Desk.row(0, 2, k -> x.cell(1, k)), "8 1 8");
     }
 }

@@ -14,6 +14,8 @@ public final class EdgeSearchTest {
         atTheLatestTime();
         nobody();
         largestStates();
+        alikeInSums();
+        ends();
         visits();
         Desk.close("EdgeSearchTest");
     }
@@ -275,9 +277,12 @@ public final class EdgeSearchTest {
 
     /** Twelve instances with sixteen cells and full queues, ten full routes. */
     private static void largestStates() {
-        StringBuilder text = new StringBuilder("signal s(int,int,int);");
-        text.append(Desk.repeat("route r% env->p delay 1 with s;", 10).replaceFirst("route r0 env->p delay 1", "route r0 env->p"));
-        text.append("process p 12..12;var a:int[8];var b:int[8];timer t;timer u;timer v;start;set t 1;set u 1;set v 1;a[7]:=7;b[7]:=15;next z;state z;save *;none;b[0]:=b[0]+1;next -;end;");
+        StringBuilder text = new StringBuilder("signal s0(int,int,int)");
+        for (int i = 1; i < 10; i++) {
+            text.append(",s").append(i).append("(int,int,int)");
+        }
+        text.append(";").append(Desk.repeat("route r% env->p delay 1 with s%;", 10));
+        text.append("process p 12..12;var a:int[8];var b:int[8];timer t;timer u;timer v;start;a[7]:=7;b[7]:=15;next z;state z;save *;none;b[0]:=b[0]+1;set t 1;set v 1;next -;end;");
         Desk desk = Desk.started(text.toString(), 1);
         ExchangeHouse x = desk.house;
         x.run(12);
@@ -285,17 +290,71 @@ public final class EdgeSearchTest {
             for (int i = 0; i < 6; i++) {
                 x.put(0, pid, i, pid, 100 * i);
             }
+            x.wait(1);
+            x.go(0);
         }
+        for (int r = 0; r < 10; r++) {
+            for (int i = 0; i < 6; i++) {
+                x.put(r, r + 1, i, r, -i);
+            }
+        }
+        Desk.due("nothing lost so far", x.count(7), 0);
         Desk.due("states", x.search(200), 200);
         Desk.due("cut", x.count(17), 1);
-        Desk.due("each timer is lost by its coming", x.state(0, 4), 36);
-        Desk.due("moves", x.state(0, 3), 48);
+        Desk.due("each route's first is lost", x.state(0, 4), 10);
+        Desk.due("ten routes, twelve nones", x.state(0, 3), 22);
+        Desk.due("search again", x.search(200), 200);
         Desk.due("visit", x.visit(199), 1);
         Desk.due("alive", x.count(5), 12);
         Desk.due("cell", x.cell(12, 7), 7);
         Desk.due("cell", x.cell(12, 15), 15);
         Desk.same("queue", Desk.row(0, 4, what -> x.queued(12, 5, what)), "0 0 5 12 500");
-        Desk.due("search again", x.search(200), 200);
+        Desk.due("visit", x.visit(0), 1);
+        Desk.same("the last on the last route", Desk.row(0, 6, what -> x.way(9, 5, what)), "9 0 10 13 5 9 -5".replace("13", Integer.toString(x.count(4))));
+    }
+
+    /** Numbers that differ, though their sum by some weights is the same. */
+    private static void alikeInSums() {
+        StringBuilder text = new StringBuilder("process p 1..1; var x: int; var y: int; start; next a; state a; ");
+        int[] weights = {2, 3, 7, 10, 17, 29, 30, 31, 32, 33, 37, 53, 64, 127, 131, 256, 257, 1000, 8191, 65536, 65599};
+        text.append("none; x := 1; y := 0; next b; ");
+        for (int weight : weights) {
+            text.append("none; x := 0; y := ").append(weight).append("; next b; ");
+        }
+        text.append("none; x := 0; y := 1; next b; none; x := 1; y := 1; next b; state b; end;");
+        Desk desk = Desk.started(text.toString(), 1);
+        desk.house.run(1);
+        Desk.due("one for each", desk.house.search(200), 1 + 3 + weights.length);
+    }
+
+    /** Of two ends the first has no signal, or has one. */
+    private static void ends() {
+        for (int k = 0; k < 2; k++) {
+            Desk desk = Desk.started("signal s, u; route e env -> p with s, u; process p 1..1; start; next a; state a; save s; none; next b; none; next c; state b; save " + (k == 0 ? "u" : "s") + "; state c; save " + (k == 0 ? "s" : "u") + "; end;", 1);
+            ExchangeHouse x = desk.house;
+            x.run(1);
+            x.put(0, 1, 0, 0, 0);
+            // In one of b and c the signal is kept, in the other it is lost by a step.
+            Desk.due("at first, b, c, and where it is lost", x.search(9), 4);
+            Desk.due("the first end", x.first(0, 0, 0), k == 0 ? 2 : 1);
+            Desk.due("the first end with a signal", x.first(1, 0, 0), k == 0 ? 2 : 1);
+            Desk.due("lost", x.first(2, 0, 0), k == 0 ? 1 : 2);
+            Desk.due("the other end has none", x.state(3, 3), 0);
+        }
+        Desk desk = Desk.started("signal s; route e env -> p with s; process p 1..1; start; next a; state a; save s; none; stop; none; next b; state b; save s; end;", 1);
+        ExchangeHouse x = desk.house;
+        x.run(1);
+        x.put(0, 1, 0, 0, 0);
+        Desk.due("states", x.search(9), 3);
+        Desk.due("the first end is nobody", x.first(0, 0, 0), 1);
+        Desk.due("the first end with a signal", x.first(1, 0, 0), 2);
+        Desk.due("in state b", x.first(4, 0, 1), 2);
+        Desk.due("again", x.first(1, 0, 0), 2);
+        Desk back = Desk.started("signal s; route e env -> p with s; process p 1..1; start; next a; state a; save s; none; next b; none; stop; state b; save s; end;", 1);
+        back.house.run(1);
+        back.house.put(0, 1, 0, 0, 0);
+        Desk.due("states", back.house.search(9), 3);
+        Desk.due("the first end has a signal", back.house.first(1, 0, 0), 1);
     }
 
     private static void visits() {

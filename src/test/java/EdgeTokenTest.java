@@ -16,13 +16,16 @@ public final class EdgeTokenTest {
 
     public static void main(String[] args) {
         names();
+        namesApart();
         numbers();
         signs();
+        otherSigns();
         blanks();
         notes();
         keywords();
         everyToken();
         firstBytesOfTheTape();
+        behindTheEnd();
         Desk.close("EdgeTokenTest");
     }
 
@@ -43,6 +46,18 @@ public final class EdgeTokenTest {
         Desk.fault(1, "signal @7;");
         Desk.fault(1, HEAD + "x := @abcdefghijk;" + TAIL);
         Desk.fault(1, HEAD + "next @abcdefghijk;" + TAIL);
+    }
+
+    /** Two names that differ in one sign are two. */
+    private static void namesApart() {
+        String all = "abcdefghijklmnopqrstuvwxyz0123456789_";
+        for (int i = 0; i < all.length(); i++) {
+            for (int k = 0; k < i; k++) {
+                Desk.good("signal a" + all.charAt(i) + ", a" + all.charAt(k) + ";");
+                Desk.good("signal q_" + all.charAt(i) + "_zzzzz9, q_" + all.charAt(k) + "_zzzzz9;");
+            }
+            Desk.fault(3, "signal a" + all.charAt(i) + ", @a" + all.charAt(i) + ";");
+        }
     }
 
     private static void numbers() {
@@ -89,6 +104,27 @@ public final class EdgeTokenTest {
         Desk.good("signal s;route r env->env with s;");
         Desk.fault(1, "signal s@.");
         Desk.fault(1, "signal s;@..");
+    }
+
+    /** One sign does not stand for another. */
+    private static void otherSigns() {
+        String[] acts = {"x := (1@];", "x := (1@,;", "x := a[1@);", "x := a@(1);", "a[1@) := 1;", "a@(1] := 1;", "output i(1@];", "output i@[1);", "create p(1@];", "x @-> 1;", "x @= 1;", "x @.. 1;", "x @<= 1;",
+            "x := 1@:", "x := 1@,", "x := 1@)", "output s@,", "output s@:", "set t 1@,", "decide x@: 1: end;", "decide x; 1@; end;", "decide x; 1 @-> 2: end;", "decide x; 1 @:= 2: end;", "decide x; 1 @- 2: end;",
+            "decide x; 1: end@:", "decide x; 1: else@; end;", "next z@:", "stop@,", "join l@."};
+        for (String act : acts) {
+            Desk.fault(1, HEAD + act + TAIL);
+        }
+        String[] texts = {"signal s(int@];", "signal s@[int);", "signal s(int@;", "signal a @] b;", "signal a@:", "signal a@.. b;", "signal s; route r env @.. env with s;", "signal s; route r env @:= env with s;",
+            "signal s; route r env @- env with s;", "signal s; route r env @: env with s;", "signal s; route r env -> env delay 1 @-> 2 with s;", "signal s; route r env -> env delay 1@, 2 with s;",
+            "signal s; route r env -> env with s@: s;", "process p 1 @-> 1; start; stop; end;", "process p 1@, 1; start; stop; end;", "process p 1@: 1; start; stop; end;", "process p 1@; start; stop; end;",
+            "process p 1..1 (k: int@]; start; stop; end;", "process p 1..1 @[k: int); start; stop; end;", "process p 1..1 (k @:= int); start; stop; end;", "process p 1..1 (k: int@; l: int); start; stop; end;",
+            "process p 1..1; var a: int[2@); start; stop; end;", "process p 1..1; var a: int@(2]; start; stop; end;", "process p 1..1; var x @:= int; start; stop; end;", "process p 1..1; var x@, y: int; start; stop; end;",
+            "process p 1..1; timer t@: start; stop; end;", "process p 1..1; start@: stop; end;", "process p 1..1; start; stop; state z@: end;", "process p 1..1; start; stop; state z@[; end;",
+            "signal i(int); process p 1..1; var x: int; start; stop; state z; input i(x@]; stop; end;", "signal i(int); process p 1..1; var x: int; start; stop; state z; input i@[x); stop; end;",
+            "process p 1..1; start; stop; state z; none@: stop; end;", "process p 1..1; start; stop; state z; save @(; end;", "process p 1..1; start; stop; end@:"};
+        for (String text : texts) {
+            Desk.fault(1, text);
+        }
     }
 
     /** Each of all bytes between two tokens. */
@@ -181,5 +217,39 @@ public final class EdgeTokenTest {
             Desk.due("the text of no bytes", desk.house.load(0), 1);
             Desk.due("its place", desk.house.place(), 0);
         }
+    }
+
+    /** What stands on the tape behind the first n bytes is none of the text's. */
+    private static void behindTheEnd() {
+        cut("process p 1", "x", 11);
+        cut("process p 1", "_", 11);
+        cut("process p 1", "2345678901", 11);
+        cut("process p 1.", ".1", 11);
+        cut("process p", "pppppppppppp", 9);
+        cut("process p 1..1; var x: int; start; x", ":=1;", 36);
+        cut("process p 1..1; var x: int; start; x:", "=1;", 37);
+        cut("signal s; route r env-", ">env", 21);
+        cut("signal s # note", "\n;", 15);
+        // At the very end of a full tape.
+        for (String end : new String[] {"process p 1", "process p 1..1", "signal abc", "signal a(", "signal a#", "signal a,"}) {
+            full(end, 5000);
+        }
+        full("process p 1.", 4999);
+        full("signal a?", 4999);
+        full("signal 1", 4999);
+    }
+
+    private static void cut(String text, String behind, int place) {
+        Desk desk = new Desk();
+        desk.feed(Desk.bytes(text + behind));
+        Desk.due("just " + text, desk.house.load(text.length()), 1);
+        Desk.due("place of just " + text, desk.house.place(), place);
+    }
+
+    private static void full(String end, int place) {
+        Desk desk = new Desk();
+        desk.feed(Desk.bytes(Desk.repeat(" ", 5000 - end.length()) + end));
+        Desk.due("all of a full tape, to " + end, desk.house.load(5000), 1);
+        Desk.due("its place", desk.house.place(), place);
     }
 }

@@ -126,6 +126,11 @@ public final class WarningTest {
         warns("process p 1..1; start; next c; state @1a; none; next b; state @1b; none; next a; state c; end;");
         warns("process p 1..1; start; next a; state a; none; next -; state @1b; none; next -; end;");
         warns("process p 1..1; start; stop; state *; none; next a; state @1a; end;");
+        // What stands behind a decide is of the trans, too.
+        warns("process p 1..1; var x: int; start; decide x; 1: x := 2; end; next a; state a; none; decide x; 1: else: end; join l; state @1b; none; decide x; 1: end; l: next c; state c; end;");
+        warns("process p 1..1; var x: int; start; decide x; 1: decide x; 1: end; next a; 2: next b; end; next c; state a, b, c; end;");
+        // A timer in an input is no signal.
+        warns("signal @3s; route e env -> p with s; process p 1..1; timer t; timer u; start; next a; state a; input t, u; next -; end;");
     }
 
     private static void latest() {
