@@ -7,6 +7,8 @@ final class Desk {
     private static int wrong;
 
     ExchangeHouse house = new ExchangeHouse();
+    /** How many of the calls on the house were feeds of texts. */
+    int feeds;
 
     static void due(String what, long got, long want) {
         asked++;
@@ -36,6 +38,7 @@ final class Desk {
                 int b = i + k < bytes.length ? bytes[i + k] & 255 : 0;
                 word[k / 4] |= b << (24 - 8 * (k % 4));
             }
+            feeds++;
             if (!house.feed(word[0], word[1], word[2], word[3], word[4])) {
                 throw new IllegalStateException("the tape is full");
             }

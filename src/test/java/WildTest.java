@@ -22,7 +22,7 @@ public final class WildTest {
         for (String system : SYSTEMS) {
             Desk.good(system);
         }
-        for (int seed = 0; seed < 120; seed++) {
+        for (int seed = 0; seed < 160; seed++) {
             long once = wild(seed);
             Desk.due("the same calls, seed " + seed, wild(seed) == once, true);
         }
@@ -38,21 +38,23 @@ public final class WildTest {
         return text.toString();
     }
 
-    /** A sum over all answers of some 500 calls. */
+    /** A sum over all answers of some 500 calls, which is what an object is made for. */
     private static long wild(int seed) {
         Random random = new Random(seed);
         Desk desk = new Desk();
         long sum = 0;
-        for (int i = 0; i < 480; i++) {
+        for (int used = 0; used + desk.feeds < 450; used++) {
             int what = random.nextInt(40);
-            if (i == 0 || what == 39 && random.nextInt(4) == 0) {
+            if (used == 0 || what == 39 && random.nextInt(4) == 0) {
                 desk.house.load(0);
                 String text = random.nextInt(4) == 0 ? soup(random) : SYSTEMS[random.nextInt(SYSTEMS.length)];
                 sum = sum * 31 + desk.load(text);
                 desk.house.begin(random.nextInt());
+                used += 2;
             } else if (what == 38) {
                 desk.house.load(0);
                 sum = sum * 31 + desk.chart("chart; inst a = 1; inst b = 2; " + (random.nextBoolean() ? "a -> b : s; opt b -> a : u; end;" : soup(random)));
+                used++;
             } else {
                 sum = sum * 31 + call(desk.house, what, random);
             }
@@ -108,7 +110,7 @@ public final class WildTest {
         Desk desk = Desk.started(SYSTEMS[1], 3);
         desk.house.run(12);
         before = threads.getThreadAllocatedBytes(id);
-        for (int i = 0; i < 100; i++) {
+        for (int i = 0; i < 90; i++) {
             desk.house.search(200);
             desk.house.run(100);
             desk.house.visit(i);
@@ -116,7 +118,7 @@ public final class WildTest {
             desk.house.load(0);
         }
         long all = threads.getThreadAllocatedBytes(id) - before;
-        Desk.due("500 calls make at most 4,000,000 bytes, not " + all, all < 4000000, true);
+        Desk.due("450 calls make at most 4,000,000 bytes, not " + all, all < 4000000, true);
         Desk.due("made", made.count(14), 0);
     }
 }
