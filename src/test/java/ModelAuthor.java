@@ -238,7 +238,7 @@ final class ModelAuthor {
 
     private void last(boolean start) {
         label();
-        int way = pick(30);
+        int way = pick(type == 0 ? 30 : 15);
         if (way == 0 || states == 0) {
             say("stop;");
         } else if (way < 4 && !labels.isEmpty()) {

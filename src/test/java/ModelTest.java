@@ -88,7 +88,7 @@ public final class ModelTest {
         while (left > 20) {
             act(pick(15), pick(8), pick(pick(10) > 0 ? 8 : 30));
             for (int i = pick(6); i > 0; i--) {
-                look(pick(13), pick(8), pick(8), pick(8));
+                look(pick(16), pick(8), pick(8), pick(8));
             }
         }
     }
@@ -207,9 +207,12 @@ public final class ModelTest {
             case 11:
                 alike("state " + found + " " + what, house.state(found, what), model.state(found, what));
                 break;
-            default:
+            case 12:
                 int b = some % 5 - 1;
-                alike("first " + what % 6 + " " + i % 4 + " " + b, house.first(what % 6, i % 4, b), model.first(what % 6, i % 4, b));
+                alike("first " + what % 6 + " " + b, house.first(what % 6, i % 4, b), model.first(what % 6, i % 4, b));
+                break;
+            default:
+                alike("event " + late + " 1", house.event(late, 1), model.event(late, 1));
                 break;
         }
     }
