@@ -13,6 +13,8 @@ final class ModelAuthor {
 
     private final Random random;
     private StringBuilder text = new StringBuilder();
+    /** Whether the text may have as much of all as there is room for. */
+    private boolean large;
     private final List<List<String>> signals = new ArrayList<>();
     private final List<List<String>> pars = new ArrayList<>();
     private final List<String> routes = new ArrayList<>();
@@ -34,6 +36,10 @@ final class ModelAuthor {
         return random.nextInt(n);
     }
 
+    private int upTo(int small, int most) {
+        return pick(1 + (large ? most : small));
+    }
+
     private String oneOf(String... words) {
         return words[pick(words.length)];
     }
@@ -47,16 +53,17 @@ final class ModelAuthor {
     }
 
     String text() {
+        large = maybe(15);
         signals.clear();
         pars.clear();
         routes.clear();
-        for (int i = 2 + pick(4); i > 0; i--) {
+        for (int i = 2 + upTo(3, 18); i > 0; i--) {
             signals.add(someSorts(50));
         }
-        for (int i = 1 + pick(3); i > 0; i--) {
+        for (int i = 1 + upTo(2, 5); i > 0; i--) {
             pars.add(someSorts(40));
         }
-        for (int i = 1 + pick(7); i > 0; i--) {
+        for (int i = 1 + upTo(6, 9); i > 0; i--) {
             routes.add(route(routes.size()));
         }
         List<String> items = new ArrayList<>();
@@ -94,7 +101,7 @@ final class ModelAuthor {
             route.append(" delay ").append(low).append(maybe(50) ? ".." + (low + pick(5)) : "");
         }
         route.append(" with s").append(pick(signals.size()));
-        for (int i = pick(signals.size() + 1); i > 0; i--) {
+        for (int i = Math.min(6, pick(signals.size() + 1)); i > 0; i--) {
             route.append(", s").append(pick(signals.size()));
         }
         return route.append("; ").toString();
@@ -105,7 +112,7 @@ final class ModelAuthor {
         type = k;
         variables.clear();
         labels.clear();
-        states = maybe(8) ? 0 : 1 + pick(4);
+        states = maybe(8) ? 0 : 1 + upTo(3, 11);
         int least = maybe(25) && k > 0 ? 0 : 1 + pick(maybe(8) ? 14 : 2);
         List<String> told = new ArrayList<>();
         for (String sort : pars.get(k)) {
@@ -113,7 +120,7 @@ final class ModelAuthor {
         }
         say("process p" + k + " " + least + ".." + (least + pick(4)) + listed(told) + ";");
         declare();
-        for (int i = pick(3); i > 0; i--) {
+        for (int i = upTo(2, 10); i > 0; i--) {
             labels.add("lab" + i);
         }
         labelsToTell.clear();
@@ -134,13 +141,13 @@ final class ModelAuthor {
     }
 
     private void declare() {
-        timers = pick(3);
+        timers = upTo(2, 3);
         for (int t = 0; t < timers; t++) {
             say("timer t" + t + ";");
         }
-        for (int i = pick(5); i > 0; i--) {
+        for (int i = upTo(4, 8 - variables.size()); i > 0; i--) {
             String sort = oneOf(SORTS);
-            int length = maybe(30) ? 1 + pick(4) : 0;
+            int length = maybe(30) ? 1 + upTo(3, 7) : 0;
             say("var " + newVariable(sort, length) + ": " + sort + (length > 0 ? "[" + length + "]" : "") + ";");
         }
     }
@@ -154,7 +161,7 @@ final class ModelAuthor {
         for (int s = 0; s < states; s++) {
             boolean withAnother = s > 0 && maybe(15);
             say("state q" + s + (withAnother ? ", q" + pick(s) : "") + ";");
-            stimuli(1 + pick(6), star || withAnother);
+            stimuli(1 + pick(large ? 3 : 6), star || withAnother);
         }
     }
 

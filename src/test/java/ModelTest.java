@@ -119,7 +119,7 @@ public final class ModelTest {
                 alike("wait " + n, house.wait(n), model.wait(n));
                 break;
             case 8, 9, 10:
-                int signal = pick(6);
+                int signal = pick(pick(4) > 0 ? 6 : 20);
                 int a = pick(5) - 2;
                 alike("put " + signal + " to " + pid, house.put(signal, pid, a, n, 1), model.put(signal, pid, a, n, 1));
                 break;
